@@ -779,22 +779,21 @@ public final class Tablehouse {
    */
   static final class Words {
     static final int TEXTS = 128;
-    private static final int EMPTY = 1;
+    static final int EMPTY = 1;
     private static final int LONGEST = 6;
     private static final int[] SYLLABLES = {2, 3, 5, 6, 4, 7, 10, 13, 11, 12};
+    /** Of each syllable the 1 in front, where it stands. */
+    private static final int[] TOPS = {2, 2, 4, 4, 4, 4, 8, 8, 8, 8};
 
     static int word(int value) {
-      return pattern(value / 10, value % 10);
+      int one = value % 10;
+      return SYLLABLES[value / 10] * TOPS[one] + SYLLABLES[one] - TOPS[one];
     }
 
     /** The syllable of one digit, or of two; the second may be NONE. */
     static int pattern(int one, int two) {
-      int text = SYLLABLES[one];
-      if (two < 0) {
-        return text;
-      }
-      int top = topOf(SYLLABLES[two]);
-      return text * top + SYLLABLES[two] - top;
+      int first = SYLLABLES[one];
+      return two == Grid.NONE ? first : first * TOPS[two] + SYLLABLES[two] - TOPS[two];
     }
 
     /** The 1 in front of a text's letters, where it stands. */
@@ -804,16 +803,6 @@ public final class Tablehouse {
         top >>= 1;
       }
       return top;
-    }
-
-    /** What is left of a text without its first letter; EMPTY for one letter. */
-    static int withoutFirst(int text) {
-      int top = topOf(text) >> 1;
-      return top < EMPTY ? EMPTY : top | text & (top - 1);
-    }
-
-    static boolean isText(int text) {
-      return text > EMPTY && text < TEXTS;
     }
 
     /** Cuts letters off behind until what is left ends with the part, or is too short for it. */
@@ -828,14 +817,6 @@ public final class Tablehouse {
         }
       }
       return false;
-    }
-
-    static boolean beginsWith(int text, int part) {
-      int left = text;
-      while (left > part) {
-        left >>= 1;
-      }
-      return left == part;
     }
 
     /** The text that a dictionary of all texts has behind this one. */
@@ -883,8 +864,13 @@ public final class Tablehouse {
       return (rows[table] >> row & 1) == 1;
     }
 
+    /** The least number that no row has; MOST_ROWS, if all are given. */
     int freeRow(int table) {
-      return Integer.numberOfTrailingZeros(~rows[table]);
+      int row = 0;
+      while (row < MOST_ROWS && hasRow(table, row)) {
+        row++;
+      }
+      return row;
     }
 
     void copyFrom(Grid other) {
@@ -1057,8 +1043,9 @@ public final class Tablehouse {
       } else if (kind == ORDERED) {
         rowsOf[value] |= 1 << row;
       } else {
-        for (int text = Words.word(value); Words.isText(text); text = Words.withoutFirst(text)) {
-          rowsOfText[text] |= 1 << row;
+        int word = Words.word(value);
+        for (int top = Words.topOf(word); top > Words.EMPTY; top >>= 1) {
+          rowsOfText[top | word & (top - 1)] |= 1 << row;
         }
       }
     }
@@ -1079,8 +1066,9 @@ public final class Tablehouse {
       } else if (kind == ORDERED) {
         rowsOf[value] &= ~(1 << row);
       } else {
-        for (int text = Words.word(value); Words.isText(text); text = Words.withoutFirst(text)) {
-          rowsOfText[text] &= ~(1 << row);
+        int word = Words.word(value);
+        for (int top = Words.topOf(word); top > Words.EMPTY; top >>= 1) {
+          rowsOfText[top | word & (top - 1)] &= ~(1 << row);
         }
       }
     }
@@ -1143,13 +1131,18 @@ public final class Tablehouse {
       return many;
     }
 
-    /** A word contains a part just where one of its endings begins with it. */
+    /**
+     * A word contains a part just where one of its endings begins with it; of each length the
+     * texts that begin with the part stand in a row, twice as many as of the length before.
+     */
     int rowsSpelled(int part) {
       int set = 0;
-      for (int text = part; text < Words.TEXTS; text++) {
-        if (rowsOfText[text] != 0 && Words.beginsWith(text, part)) {
+      int from = part;
+      for (int many = 1; many < Words.TEXTS && from < Words.TEXTS; many *= 2) {
+        for (int text = from; text < from + many && text < Words.TEXTS; text++) {
           set |= rowsOfText[text];
         }
+        from *= 2;
       }
       return set;
     }
@@ -1205,7 +1198,10 @@ public final class Tablehouse {
     }
 
     private static int setOf(int key) {
-      return (key >> 14 == 0 ? 0 : 1) | ((key >> 7 & 127) == 0 ? 0 : 2) | ((key & 127) == 0 ? 0 : 4);
+      int first = key >> 14 == 0 ? 0 : 1;
+      int second = (key >> 7 & 127) == 0 ? 0 : 2;
+      int third = (key & 127) == 0 ? 0 : 4;
+      return first | second | third;
     }
 
     private int placeOf(int key) {
@@ -1372,6 +1368,8 @@ public final class Tablehouse {
     private final Line text = new Line();
     private int width;
     private int at;
+    /** The code of the sign at which the reader is; NONE behind the last. */
+    private int here;
     final int[] code = new int[ROOM];
     int codeEnd;
     final int[] sign = new int[ROOM];
@@ -1391,6 +1389,7 @@ public final class Tablehouse {
       text.copyFrom(line);
       width = newWidth;
       at = 0;
+      here = text.length > 0 ? text.codes[0] : Grid.NONE;
       codeEnd = 0;
       conditions = 0;
       terms = 0;
@@ -1399,24 +1398,17 @@ public final class Tablehouse {
       return isWhole ? Grid.NONE : at;
     }
 
-    private int peek() {
-      return at < text.length ? text.codes[at] : Grid.NONE;
-    }
-
-    private boolean accept(int wanted) {
-      boolean isThere = peek() == wanted;
-      if (isThere) {
-        at++;
-      }
-      return isThere;
+    private void step() {
+      at++;
+      here = at < text.length ? text.codes[at] : Grid.NONE;
     }
 
     private boolean isLetter() {
-      return peek() >= Line.LETTER && peek() < Line.LETTER + width;
+      return here >= Line.LETTER && here < Line.LETTER + width;
     }
 
     private boolean isDigit() {
-      return peek() >= 0 && peek() < Line.LETTER;
+      return here >= 0 && here < Line.LETTER;
     }
 
     private void emit(int word) {
@@ -1443,9 +1435,10 @@ public final class Tablehouse {
         if (term > 0) {
           emit(OR);
         }
-        if (!accept(Line.EITHER)) {
+        if (here != Line.EITHER) {
           return true;
         }
+        step();
       }
       return false;
     }
@@ -1458,74 +1451,82 @@ public final class Tablehouse {
         if (fact > 0) {
           emit(AND);
         }
-        if (!accept(Line.BOTH)) {
+        if (here != Line.BOTH) {
           return true;
         }
+        step();
       }
       return false;
     }
 
     private boolean readFact(int depth) {
       int dashes = 0;
-      while (dashes < ROOM && accept(Line.DASH)) {
+      while (here == Line.DASH && dashes < ROOM) {
         dashes++;
+        step();
       }
-      boolean isBracket = depth < DEEPEST && accept(Line.OPEN);
-      boolean isRead = isBracket
-          ? readSentence(depth + 1) && accept(Line.CLOSE)
-          : readCondition();
-      if (!isRead) {
-        return false;
+      int condition = Grid.NONE;
+      if (here == Line.OPEN && depth < DEEPEST) {
+        step();
+        if (!readSentence(depth + 1) || here != Line.CLOSE) {
+          return false;
+        }
+        step();
+      } else {
+        condition = readCondition();
+        if (condition == Grid.NONE) {
+          return false;
+        }
       }
       if (dashes % 2 == 1) {
         emit(NOT);
       }
       if (depth == 0 && facts < ROOM) {
-        boolean isPlain = !isBracket && dashes == 0 && other[conditions - 1] == Grid.NONE;
-        factCondition[facts] = isPlain ? conditions - 1 : Grid.NONE;
+        boolean isPlain = condition != Grid.NONE && dashes == 0 && other[condition] == Grid.NONE;
+        factCondition[facts] = isPlain ? condition : Grid.NONE;
         facts++;
       }
       return true;
     }
 
-    private boolean readCondition() {
+    /** The number of the condition that stands here; NONE, if it breaks. */
+    private int readCondition() {
       if (!isLetter() || conditions >= ROOM) {
-        return false;
+        return Grid.NONE;
       }
-      column[conditions] = peek() - Line.LETTER;
+      column[conditions] = here - Line.LETTER;
       other[conditions] = Grid.NONE;
-      at++;
-      int what = peek();
-      if (what < Line.EQUAL || what > Line.LACKS) {
-        return false;
+      step();
+      if (here < Line.EQUAL || here > Line.LACKS) {
+        return Grid.NONE;
       }
-      sign[conditions] = what;
-      at++;
-      if (what != Line.LACKS && !readOperand(what)) {
-        return false;
+      sign[conditions] = here;
+      step();
+      if (sign[conditions] != Line.LACKS && !readOperand(sign[conditions] == Line.SOUNDS)) {
+        return Grid.NONE;
       }
       emit(conditions);
       conditions++;
-      return true;
+      return conditions - 1;
     }
 
-    private boolean readOperand(int what) {
-      if (what != Line.SOUNDS && isLetter()) {
-        other[conditions] = peek() - Line.LETTER;
-        at++;
+    private boolean readOperand(boolean isPattern) {
+      if (!isPattern && isLetter()) {
+        other[conditions] = here - Line.LETTER;
+        step();
         return true;
       }
       if (!isDigit()) {
         return false;
       }
-      int one = peek();
-      at++;
+      int one = here;
       int two = Grid.NONE;
+      step();
       if (isDigit()) {
-        two = peek();
-        at++;
+        two = here;
+        step();
       }
-      if (what == Line.SOUNDS) {
+      if (isPattern) {
         number[conditions] = Words.pattern(one, two);
       } else {
         number[conditions] = two == Grid.NONE ? one : 10 * one + two;
@@ -1536,9 +1537,6 @@ public final class Tablehouse {
 
   /** The roads from what the reader has read last to the set of rows that fit it. */
   static final class Roads {
-    private static final int BY_ROW = 0;
-    private static final int BY_INDEX = 1;
-    private static final int BY_BITS = 2;
     private static final int PLANES = 7;
 
     private final Grid now;
@@ -1556,37 +1554,90 @@ public final class Tablehouse {
 
     int take(int table, int road) {
       switch (road) {
-        case 0: return rowByRow(table, 0, reader.codeEnd, now.rows[table]);
-        case 1: return evaluate(table, 0, reader.codeEnd, now.rows[table], BY_INDEX);
-        case 2: return evaluate(table, 0, reader.codeEnd, now.rows[table], BY_BITS);
+        case 0: return rowByRow(table);
+        case 1: return byConditions(table, true);
+        case 2: return byConditions(table, false);
         default: return byPlan(table);
       }
     }
 
+    int rowByRow(int table) {
+      return sift(table, 0, reader.codeEnd, now.rows[table]);
+    }
+
     int byPlan(int table) {
-      int all = Integer.bitCount(now.rows[table]);
-      if (readsOfChosen(table) >= all) {
-        return rowByRow(table, 0, reader.codeEnd, now.rows[table]);
+      if (readsOfChosen(table) >= Integer.bitCount(now.rows[table])) {
+        return sift(table, 0, reader.codeEnd, now.rows[table]);
       }
       int set = 0;
       for (int term = 0; term < reader.terms; term++) {
         int fact = chosenFact(table, term);
         if (fact != Grid.NONE) {
           int found = byIndex(table, reader.factCondition[fact]);
-          set |= rowByRow(table, reader.termStart[term], reader.termEnd[term], found);
+          set |= sift(table, reader.termStart[term], reader.termEnd[term], found);
         }
       }
       return set;
     }
 
-    int rowByRow(int table, int from, int to, int rows) {
+    /** Looks at the given rows one by one; keeps those that a part of the code fits. */
+    private int sift(int table, int from, int to, int rows) {
       int set = 0;
       for (int row = 0; row < Grid.MOST_ROWS; row++) {
         if ((rows >> row & 1) == 1) {
-          set |= evaluate(table, from, to, 1 << row, BY_ROW);
+          int top = 0;
+          for (int at = from; at < to; at++) {
+            int word = reader.code[at];
+            if (word < 0) {
+              top = bind(word, top, 1);
+            } else if (top < stack.length) {
+              stack[top] = isFitting(table, word, row) ? 1 : 0;
+              top++;
+            }
+          }
+          set |= top > 0 ? stack[0] << row : 0;
         }
       }
       return set;
+    }
+
+    /** Takes what each condition fits as a whole, by indexes where they serve or by bits. */
+    int byConditions(int table, boolean isByIndex) {
+      int rows = now.rows[table];
+      int top = 0;
+      for (int at = 0; at < reader.codeEnd; at++) {
+        int word = reader.code[at];
+        if (word < 0) {
+          top = bind(word, top, rows);
+        } else if (top < stack.length) {
+          if (!isByIndex) {
+            stack[top] = byBits(table, word);
+          } else {
+            stack[top] = isServed(table, word) ? byIndex(table, word) : byLooking(table, word);
+          }
+          top++;
+        }
+      }
+      return top > 0 ? stack[0] : 0;
+    }
+
+    /** Binds what stands on the stack; "-" turns it round within the whole. */
+    private int bind(int word, int top, int whole) {
+      if (word == Reader.NOT) {
+        if (top > 0) {
+          stack[top - 1] = whole & ~stack[top - 1];
+        }
+        return top;
+      }
+      if (top < 2) {
+        return top;
+      }
+      if (word == Reader.AND) {
+        stack[top - 2] &= stack[top - 1];
+      } else {
+        stack[top - 2] |= stack[top - 1];
+      }
+      return top - 1;
     }
 
     int price(int table) {
@@ -1642,37 +1693,10 @@ public final class Tablehouse {
       }
     }
 
-    /** Works the code off over the given rows alone; "-" turns a set round within them. */
-    private int evaluate(int table, int from, int to, int rows, int how) {
-      int top = 0;
-      for (int at = from; at < to; at++) {
-        int word = reader.code[at];
-        if (word >= 0 && top < stack.length) {
-          stack[top] = rows & fitting(table, word, rows, how);
-          top++;
-        } else if (word == Reader.NOT && top > 0) {
-          stack[top - 1] = rows & ~stack[top - 1];
-        } else if (word == Reader.AND && top > 1) {
-          top--;
-          stack[top - 1] &= stack[top];
-        } else if (word == Reader.OR && top > 1) {
-          top--;
-          stack[top - 1] |= stack[top];
-        }
-      }
-      return top > 0 ? stack[0] : 0;
-    }
-
-    private int fitting(int table, int condition, int rows, int how) {
-      if (how == BY_BITS) {
-        return byBits(table, condition);
-      }
-      if (how == BY_INDEX && isServed(table, condition)) {
-        return byIndex(table, condition);
-      }
+    private int byLooking(int table, int condition) {
       int set = 0;
       for (int row = 0; row < Grid.MOST_ROWS; row++) {
-        if ((rows >> row & 1) == 1 && isFitting(table, condition, row)) {
+        if (now.hasRow(table, row) && isFitting(table, condition, row)) {
           set |= 1 << row;
         }
       }
@@ -1722,12 +1746,14 @@ public final class Tablehouse {
 
     /** Plane k is the set of rows whose value has bit k; the rows with values come back. */
     private int slice(int place, int rows, int[] into) {
-      int valued = rows & ~now.nullRows(place);
-      for (int bit = 0; bit < PLANES; bit++) {
-        into[bit] = 0;
-        for (int row = 0; row < Grid.MOST_ROWS; row++) {
-          if ((valued >> row & 1) == 1) {
-            into[bit] |= (now.cells[place][row] >> bit & 1) << row;
+      int valued = 0;
+      Arrays.fill(into, 0);
+      for (int row = 0; row < Grid.MOST_ROWS; row++) {
+        int value = now.cells[place][row];
+        if ((rows >> row & 1) == 1 && value != Grid.NONE) {
+          valued |= 1 << row;
+          for (int bit = 0; bit < PLANES; bit++) {
+            into[bit] |= (value >> bit & 1) << row;
           }
         }
       }
@@ -1986,8 +2012,9 @@ public final class Tablehouse {
       Arrays.fill(gone, 0);
       gone[table] = rows;
       // Each round but the last takes at least one row more.
-      for (int round = 0; round < Grid.TABLES * Grid.MOST_ROWS && pull(); round++) {
-        continue;
+      boolean hasMore = true;
+      for (int round = 0; hasMore && round <= Grid.TABLES * Grid.MOST_ROWS; round++) {
+        hasMore = pull();
       }
       letGo();
       int went = 0;
@@ -2387,7 +2414,7 @@ public final class Tablehouse {
         int table = answers.tell(each, 0);
         int broken = reader.read(answers.textOf(each), Grid.WIDTH[table]);
         if (broken != Grid.NONE
-            || roads.rowByRow(table, 0, reader.codeEnd, now.rows[table]) != answers.tell(each, 1)) {
+            || roads.rowByRow(table) != answers.tell(each, 1)) {
           return false;
         }
       }
@@ -2397,11 +2424,10 @@ public final class Tablehouse {
     boolean holdRoads(Line typed, Reader reader) {
       for (int table = 0; table < Grid.TABLES; table++) {
         if (reader.read(typed, Grid.WIDTH[table]) == Grid.NONE) {
-          int set = roads.rowByRow(table, 0, reader.codeEnd, now.rows[table]);
-          for (int road = 1; road <= 3; road++) {
-            if (roads.take(table, road) != set) {
-              return false;
-            }
+          int set = roads.rowByRow(table);
+          if (roads.byConditions(table, true) != set || roads.byConditions(table, false) != set
+              || roads.byPlan(table) != set) {
+            return false;
           }
         }
       }
