@@ -240,6 +240,12 @@ public final class PromiseTests {
     refuses(h, STATE, () -> h.unindex(1, 0, 0));
     is(false, () -> h.unindex(1, 0, 2));
     h.unlink(1, 0);
+    h.link(0, 0, 1, 0, 0);
+    refuses(h, STATE, () -> h.unindex(1, 0, 0));
+    h.unlink(0, 0);
+    h.link(2, 2, 1, 0, 0);
+    refuses(h, STATE, () -> h.unindex(1, 0, 0));
+    h.unlink(2, 2);
     is(true, () -> h.unindex(1, 0, 0));
     is(0, () -> h.ofColumn(1, 0, 0));
     is(1, () -> h.put(1, 0, 0, 12));
@@ -436,6 +442,7 @@ public final class PromiseTests {
     promise12SowRefuses();
     promise13Put();
     promise13PutRefuses();
+    promise13EachColumnHasItsRules();
     promise14Drop();
     promise14DropTakesAlong();
     promise14DropInARing();
@@ -555,6 +562,40 @@ public final class PromiseTests {
       h.addFour(0, -1, -1, -1);
     }
     refuses(h, STATE, () -> h.addFour(-1, 9, 5, 6));
+  }
+
+  /** The rules hold in every column of every table. */
+  private static void promise13EachColumnHasItsRules() {
+    for (int table = 0; table < 3; table++) {
+      for (int column = 0; column < WIDTH[table]; column++) {
+        Tablehouse h = new Tablehouse();
+        int t = table;
+        int c = column;
+        h.sow(t, 3, 10, 10);
+        int first = h.get(t, 0, c);
+        h.need(t, c, true);
+        h.check(t, c, first, first + 20);
+        h.index(t, c, 0);
+        h.link(t, c, t, c, 0);
+        tells(h, -2, () -> h.put(t, 1, c, -1));
+        tells(h, -3, () -> h.put(t, 1, c, first - 1));
+        tells(h, -3, () -> h.put(t, 1, c, first + 21));
+        tells(h, -4, () -> h.put(t, 1, c, first));
+        is(1, () -> h.put(t, 1, c, first + 1));
+        int other = c == 0 ? 1 : 0;
+        h.put(t, 2, other, first);
+        h.link(t, other, t, c, 2);
+        is(-1, () -> h.ofColumn(t, other, 4));
+        h.put(t, 0, other, -1);
+        h.put(t, 1, other, -1);
+        is(1, () -> h.link(t, other, t, c, 2));
+        tells(h, -5, () -> h.put(t, 2, other, first + 15));
+        is(1, () -> h.drop(t, 0));
+        is(-1, () -> h.get(t, 2, other));
+        is(set(1, 2), () -> type(h, (char) ('A' + c) + ">0").road(t, 2));
+        is(true, h::isSound);
+      }
+    }
   }
 
   private static void promise12Sow() {
@@ -897,6 +938,14 @@ public final class PromiseTests {
     is(6, () -> h.get(2, 3, 1));
     h.check(2, 1, 0, 6);
     tells(h, -3, () -> h.shift(2, 1, 1));
+    is(0, () -> h.shift(2, 0, 9));
+    is(1, () -> h.shift(2, 2, 9));
+    is(6, () -> h.get(2, 3, 1));
+    h.begin();
+    h.put(2, 0, 2, 70);
+    h.back();
+    is(1, () -> h.shift(2, 2, 1));
+    is(0, () -> h.get(2, 0, 2));
     // A column that leads to itself goes with its key; another does not.
     Tablehouse g = new Tablehouse();
     g.sow(1, 3, 0, 1);
@@ -1337,6 +1386,12 @@ public final class PromiseTests {
     is(true, () -> h.isKept(0));
     h.addSix(1, 1, 1, 1, 1, 1);
     is(6, () -> h.house(5));
+    h.put(0, 0, 0, 2);
+    type(h, "A!").ask(0);
+    h.put(0, 0, 1, 2);
+    is(true, () -> h.isKept(0));
+    h.put(0, 0, 0, 3);
+    is(false, () -> h.isKept(0));
     is(true, h::isSound);
   }
 
@@ -1350,14 +1405,16 @@ public final class PromiseTests {
     Object[][] due = {
       {"A!", set(2)}, {"C!", set(0, 1, 2)}, {"A=7", set(1)}, {"A=07", set(1)}, {"A=70", set(3)},
       {"A<7", 0}, {"A<8", set(1)}, {"A>70", set(4)}, {"A>69", set(3, 4)}, {"A<99", set(0, 1, 3)},
-      {"A=B", set(0)}, {"A<B", set(1)}, {"A>B", set(3, 4)}, {"A=C", set(3, 4)}, {"A=A", set(0, 1, 3, 4)},
+      {"A=B", set(0)}, {"A<B", set(1)}, {"A>B", set(3, 4)}, {"A=C", set(3, 4)},
+      {"A=A", set(0, 1, 3, 4)},
       {"A<A", 0}, {"C>B", set(3, 4)}, {"B>0", set(0, 1, 2, 3)}, {"E=0", set(0, 1, 2, 3, 4)},
       // The WORDS of A: 47 "aabab", 7 "abab", 70 "baba", 99 "baabaa".
       {"A~7", set(0, 1, 3)}, {"A~47", set(0)}, {"A~07", set(0, 1)}, {"A~70", set(3)},
       {"A~9", set(4)}, {"A~99", set(4)}, {"A~0", set(0, 1, 3, 4)}, {"A~4", set(0, 4)},
       {"A~1", set(0, 1, 3, 4)}, {"A~5", 0}, {"A~6", set(0, 1, 3, 4)}, {"A~2", set(0, 1, 3, 4)},
       {"A~8", 0}, {"A~00", set(0, 4)}, {"A~11", 0}, {"A~40", 0},
-      {"-A=7", set(0, 2, 3, 4)}, {"--A=7", set(1)}, {"-A!", set(0, 1, 3, 4)},
+      {"-A=7", set(0, 2, 3, 4)}, {"--A=7", set(1)}, {"---A=7", set(0, 2, 3, 4)},
+      {"B~0", set(0, 1, 2, 3, 4)}, {"B~00", set(0, 1, 2, 4)}, {"-A!", set(0, 1, 3, 4)},
       {"-A<B", set(0, 2, 3, 4)}, {"-A~7", set(2, 4)},
     };
     for (Object[] each : due) {
@@ -1459,6 +1516,11 @@ public final class PromiseTests {
       }
       compare(each[1], got);
     }
+    type(h, "A=1|A=1|A=1|A=1|A=1|A=1");
+    is(0, () -> h.plan(0, 5));
+    type(h, "A=1|B=8");
+    is(0, () -> h.plan(0, 1));
+    is(-1, () -> h.plan(0, 2));
     type(h, "E!&A=1|B<9&A=1|(B=8|D=9)|D!");
     is(1, () -> h.plan(0, 0));
     is(1, () -> h.plan(0, 1));
@@ -1580,6 +1642,7 @@ public final class PromiseTests {
     promise33Under();
     promise34Whose();
     promise35Spelled();
+    promise35And36AllWords();
     promise36Ending();
     promise37Lens();
     promise38Narrow();
@@ -1595,7 +1658,11 @@ public final class PromiseTests {
     tells(h, -9, () -> h.edge(2, 1, true));
     h.addThree(0, -1, 0);
     tells(h, -9, () -> h.edge(2, 1, true));
-    h.addThree(0, 40, 0);
+    h.addThree(0, 0, 0);
+    is(0, () -> h.edge(2, 1, false));
+    is(0, () -> h.edge(2, 1, true));
+    is(1, () -> h.ofColumn(2, 1, 7));
+    h.put(2, 1, 1, 40);
     is(40, () -> h.edge(2, 1, false));
     looks(h, 40, () -> h.edge(2, 1, true));
     h.addThree(0, 99, 0);
@@ -1640,6 +1707,8 @@ public final class PromiseTests {
     h.put(1, 0, 3, 0);
     h.put(1, 1, 3, 99);
     is(0, () -> h.near(1, 3, 0, 0));
+    is(0, () -> h.near(1, 3, 1, 1));
+    is(0, () -> h.near(1, 3, 0, 2));
     is(99, () -> h.near(1, 3, 99, 2));
     is(-1, () -> h.near(1, 3, 99, 3));
     is(-1, () -> h.near(1, 3, 0, 1));
@@ -1665,6 +1734,18 @@ public final class PromiseTests {
     tells(h, -9, () -> h.under(0, 4, -1));
     h.put(0, 1, 4, 99);
     is(set(1), () -> h.under(0, 4, 99));
+    h.put(0, 0, 4, -1);
+    h.put(0, 1, 4, -1);
+    h.index(0, 4, 0);
+    h.index(0, 4, 2);
+    h.put(0, 1, 4, 99);
+    is(set(0), () -> type(h, "E!").road(0, 1));
+    is(true, h::isSound);
+    h.put(0, 0, 4, 8);
+    is(set(0), () -> h.under(0, 4, 8));
+    is(0, () -> h.road(0, 1));
+    h.unindex(0, 4, 0);
+    h.put(0, 0, 4, 7);
     h.drop(0, 0);
     is(set(2), () -> h.under(0, 4, 7));
     is(0, () -> h.under(0, 4, 0));
@@ -1684,6 +1765,7 @@ public final class PromiseTests {
     h.addSix(0, 0, 0, 0, 0, 0);
     is(0, () -> h.whose(0, 4, 7));
     is(2, () -> h.whose(0, 4, 0));
+    is(2, () -> h.ofColumn(0, 4, 6));
     is(-1, () -> h.whose(0, 4, 8));
     looks(h, -1, () -> h.whose(0, 4, -1));
     is(0, () -> h.house(7));
@@ -1736,6 +1818,47 @@ public final class PromiseTests {
     refuses(h, STATE, () -> h.spelled(2, 1, 0, 0));
   }
 
+  private static final String[] SYLLABLES =
+      {"a", "b", "ab", "ba", "aa", "bb", "aba", "bab", "abb", "baa"};
+
+  /** All values, twenty at a time, under all patterns. */
+  private static void promise35And36AllWords() {
+    for (int from = 0; from < 100; from += 20) {
+      Tablehouse h = new Tablehouse();
+      h.index(2, 1, 2);
+      java.util.TreeSet<String> texts = new java.util.TreeSet<>();
+      for (int row = 0; row < 20; row++) {
+        h.addThree(1, from + row, 2);
+        String word = SYLLABLES[(from + row) / 10] + SYLLABLES[(from + row) % 10];
+        for (int at = 0; at < word.length(); at++) {
+          texts.add(word.substring(at));
+        }
+      }
+      for (int one = 0; one <= 9; one++) {
+        for (int two = -1; two <= 9; two++) {
+          String part = SYLLABLES[one] + (two == -1 ? "" : SYLLABLES[two]);
+          int due = 0;
+          for (int row = 0; row < 20; row++) {
+            String word = SYLLABLES[(from + row) / 10] + SYLLABLES[(from + row) % 10];
+            due |= word.contains(part) ? 1 << row : 0;
+          }
+          compare(due, h.spelled(2, 1, one, two));
+          type(h, "B~" + one + (two == -1 ? "" : two));
+          for (int road = 0; road <= 3; road++) {
+            compare(due, h.road(2, road));
+          }
+        }
+      }
+      int k = 0;
+      for (String text : texts) {
+        compare(text, h.ending(2, 1, k));
+        k++;
+      }
+      compare("", h.ending(2, 1, k));
+      compare(k, h.ofColumn(2, 1, 8));
+    }
+  }
+
   private static void promise36Ending() {
     Tablehouse h = new Tablehouse();
     h.index(1, 0, 2);
@@ -1751,7 +1874,8 @@ public final class PromiseTests {
     is("", () -> h.ending(1, 0, Integer.MIN_VALUE));
     four(h);
     four(h, 99);
-    String[] more = {"a", "aa", "aabaa", "aabab", "ab", "abaa", "abab", "b", "baa", "baabaa", "bab"};
+    String[] more =
+        {"a", "aa", "aabaa", "aabab", "ab", "abaa", "abab", "b", "baa", "baabaa", "bab"};
     for (int k = 0; k < 11; k++) {
       compare(more[k], h.ending(1, 0, k));
     }
@@ -2055,6 +2179,10 @@ public final class PromiseTests {
     for (int what = 0; what <= 4; what++) {
       compare(nulls[what], h.total(1, 1, what));
     }
+    h.put(1, 0, 0, 0);
+    h.put(1, 4, 0, 4);
+    is(0, () -> h.total(1, 0, 2));
+    h.put(1, 0, 0, 4);
     h.drop(1, 4);
     h.put(1, 2, 0, 5);
     is(13, () -> h.total(1, 0, 0));
@@ -2171,6 +2299,14 @@ public final class PromiseTests {
       refuses(h, BAD, () -> h.anyOf(0, 0, number));
     }
     is(0, () -> new Tablehouse().anyOf(-1, -1, -1));
+    Tablehouse g = new Tablehouse();
+    g.addSix(10, 20, 30, 40, 50, 60);
+    g.addFour(1, 2, 3, 4);
+    is(1, () -> g.cell(10, 20, 30));
+    is(1, () -> g.cell(-2, -2, 30));
+    is(0, () -> g.cell(1, 2, 3));
+    is(1, () -> g.anyOf(0, 0, 30));
+    is(0, () -> g.anyOf(20, 10, 40));
   }
 
   // ---- what is asked
