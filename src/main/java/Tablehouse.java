@@ -161,22 +161,25 @@ public final class Tablehouse {
     coming[3] = d;
     coming[4] = e;
     coming[5] = f;
-    return addRow(0, a, b, c);
+    mustTakeRow(0, a, b, c);
+    return told(changes.putIn(0, coming));
   }
 
   public int addFour(int a, int b, int c, int d)
       throws IllegalArgumentException, IllegalStateException {
     coming[3] = d;
-    return addRow(1, a, b, c);
+    mustTakeRow(1, a, b, c);
+    return told(changes.putIn(1, coming));
   }
 
   public int addThree(int a, int b, int c)
       throws IllegalArgumentException, IllegalStateException {
-    return addRow(2, a, b, c);
+    mustTakeRow(2, a, b, c);
+    return told(changes.putIn(2, coming));
   }
 
   /** What the wider tables have behind the third column stands in coming already. */
-  private int addRow(int table, int a, int b, int c) {
+  private void mustTakeRow(int table, int a, int b, int c) {
     coming[0] = a;
     coming[1] = b;
     coming[2] = c;
@@ -184,7 +187,6 @@ public final class Tablehouse {
       mustBeWithin(coming[column], Grid.NONE, Grid.MOST_VALUE);
     }
     mustHaveRoom(table, 1);
-    return told(changes.putIn(table, coming));
   }
 
   public int sow(int table, int many, int from, int step)
@@ -948,9 +950,16 @@ public final class Tablehouse {
       return set;
     }
 
+    /** Whether each value at a place is that of some row at the other. */
     boolean isFound(int place, int toPlace) {
-      int met = rowsMeeting(place, toPlace, rows[TABLE_OF[toPlace]]);
-      return (met | nullRows(place)) == rows[TABLE_OF[place]];
+      int table = TABLE_OF[place];
+      for (int row = 0; row < MOST_ROWS; row++) {
+        if (hasRow(table, row) && cells[place][row] != NONE
+            && rowsWith(toPlace, cells[place][row]) == 0) {
+          return false;
+        }
+      }
+      return true;
     }
 
     int sum(int place, int set) {
@@ -1022,53 +1031,45 @@ public final class Tablehouse {
       }
       for (int row = 0; row < cells.length; row++) {
         if ((rows >> row & 1) == 1) {
-          enterIn(kind, row, cells[row]);
+          enter(1 << kind, row, cells[row]);
         }
       }
     }
 
-    void enter(int row, int value) {
-      for (int kind = UNIQUE; kind <= WORD; kind++) {
-        if (has(kind)) {
-          enterIn(kind, row, value);
-        }
-      }
-    }
-
-    private void enterIn(int kind, int row, int value) {
+    /** Enters a row in the indexes of a set of kinds. */
+    void enter(int into, int row, int value) {
+      int mark = 1 << row;
       if (value == Grid.NONE) {
-        rowsOfNull |= kind == ORDERED ? 1 << row : 0;
-      } else if (kind == UNIQUE) {
+        rowsOfNull |= (into >> ORDERED & 1) == 1 ? mark : 0;
+        return;
+      }
+      if ((into >> UNIQUE & 1) == 1) {
         rowOf[value] = row;
-      } else if (kind == ORDERED) {
-        rowsOf[value] |= 1 << row;
-      } else {
+      }
+      if ((into >> ORDERED & 1) == 1) {
+        rowsOf[value] |= mark;
+      }
+      if ((into >> WORD & 1) == 1) {
         int word = Words.word(value);
-        for (int top = Words.topOf(word); top > Words.EMPTY; top >>= 1) {
-          rowsOfText[top | word & (top - 1)] |= 1 << row;
+        for (int top = Words.TEXTS / 2; top > Words.EMPTY; top >>= 1) {
+          rowsOfText[top | word & (top - 1)] |= top <= word ? mark : 0;
         }
       }
     }
 
+    /** Takes a row out of all indexes. */
     void leave(int row, int value) {
-      for (int kind = UNIQUE; kind <= WORD; kind++) {
-        if (has(kind)) {
-          leaveFrom(kind, row, value);
-        }
-      }
-    }
-
-    private void leaveFrom(int kind, int row, int value) {
+      int mark = 1 << row;
       if (value == Grid.NONE) {
-        rowsOfNull &= kind == ORDERED ? ~(1 << row) : -1;
-      } else if (kind == UNIQUE) {
-        rowOf[value] = Grid.NONE;
-      } else if (kind == ORDERED) {
-        rowsOf[value] &= ~(1 << row);
-      } else {
+        rowsOfNull &= ~mark;
+        return;
+      }
+      rowOf[value] = Grid.NONE;
+      rowsOf[value] &= ~mark;
+      if (has(WORD)) {
         int word = Words.word(value);
-        for (int top = Words.topOf(word); top > Words.EMPTY; top >>= 1) {
-          rowsOfText[top | word & (top - 1)] &= ~(1 << row);
+        for (int top = Words.TEXTS / 2; top > Words.EMPTY; top >>= 1) {
+          rowsOfText[top | word & (top - 1)] &= top <= word ? ~mark : -1;
         }
       }
     }
@@ -1168,6 +1169,14 @@ public final class Tablehouse {
   static final class Cube {
     static final int ANY = -2;
     private static final int SETS = 8;
+    private static final int FIRST = 127 << 14;
+    private static final int SECOND = 127 << 7;
+    private static final int THIRD = 127;
+    /** Of each set of places the parts of a key that these have. */
+    private static final int[] MASKS = {
+      0, FIRST, SECOND, FIRST | SECOND, THIRD, FIRST | THIRD, SECOND | THIRD,
+      FIRST | SECOND | THIRD
+    };
 
     int table = 0;
     private int one = 0;
@@ -1185,22 +1194,18 @@ public final class Tablehouse {
       many = 0;
     }
 
-    private static int keyOf(int a, int b, int c) {
-      return (a - ANY) << 14 | (b - ANY) << 7 | c - ANY;
+    /** The key of the cell that leaves nothing open; what is ANY has 0 in its part of a key. */
+    private int keyOfRow(Grid grid, int row) {
+      int first = grid.cells[one][row] - ANY;
+      int second = grid.cells[two][row] - ANY;
+      return first << 14 | second << 7 | grid.cells[three][row] - ANY;
     }
 
-    /** The key of the cell that a row fits, which leaves open what the set has not. */
-    private int keyOfRow(Grid grid, int row, int set) {
-      int a = (set & 1) == 0 ? ANY : grid.cells[one][row];
-      int b = (set & 2) == 0 ? ANY : grid.cells[two][row];
-      int c = (set & 4) == 0 ? ANY : grid.cells[three][row];
-      return keyOf(a, b, c);
-    }
-
+    /** The parts of a key that are not ANY, as they stand in MASKS. */
     private static int setOf(int key) {
-      int first = key >> 14 == 0 ? 0 : 1;
-      int second = (key >> 7 & 127) == 0 ? 0 : 2;
-      int third = (key & 127) == 0 ? 0 : 4;
+      int first = (key & FIRST) == 0 ? 0 : 1;
+      int second = (key & SECOND) == 0 ? 0 : 2;
+      int third = (key & THIRD) == 0 ? 0 : 4;
       return first | second | third;
     }
 
@@ -1214,8 +1219,9 @@ public final class Tablehouse {
     }
 
     void countIn(Grid grid, int row) {
+      int whole = keyOfRow(grid, row);
       for (int set = 0; set < SETS; set++) {
-        int key = keyOfRow(grid, row, set);
+        int key = whole & MASKS[set];
         int place = placeOf(key);
         if (place != Grid.NONE) {
           sizes[place]++;
@@ -1228,8 +1234,9 @@ public final class Tablehouse {
     }
 
     void countOut(Grid grid, int row) {
+      int whole = keyOfRow(grid, row);
       for (int set = 0; set < SETS; set++) {
-        int place = placeOf(keyOfRow(grid, row, set));
+        int place = placeOf(whole & MASKS[set]);
         if (place != Grid.NONE) {
           sizes[place]--;
           if (sizes[place] == 0) {
@@ -1242,7 +1249,7 @@ public final class Tablehouse {
     }
 
     int of(int a, int b, int c) {
-      int place = placeOf(keyOf(a, b, c));
+      int place = placeOf((a - ANY) << 14 | (b - ANY) << 7 | c - ANY);
       return place == Grid.NONE ? 0 : sizes[place];
     }
 
@@ -1259,9 +1266,10 @@ public final class Tablehouse {
     /** If each cell counts the rows that fit it, and all rows find theirs, there is no other. */
     boolean isOf(Grid grid) {
       for (int place = 0; place < many; place++) {
+        int mask = MASKS[setOf(keys[place])];
         int fitting = 0;
         for (int row = 0; row < Grid.MOST_ROWS; row++) {
-          if (grid.hasRow(table, row) && keyOfRow(grid, row, setOf(keys[place])) == keys[place]) {
+          if (grid.hasRow(table, row) && (keyOfRow(grid, row) & mask) == keys[place]) {
             fitting++;
           }
         }
@@ -1271,7 +1279,7 @@ public final class Tablehouse {
       }
       for (int row = 0; row < Grid.MOST_ROWS; row++) {
         for (int set = 0; set < SETS; set++) {
-          if (grid.hasRow(table, row) && placeOf(keyOfRow(grid, row, set)) == Grid.NONE) {
+          if (grid.hasRow(table, row) && placeOf(keyOfRow(grid, row) & MASKS[set]) == Grid.NONE) {
             return false;
           }
         }
@@ -1543,6 +1551,8 @@ public final class Tablehouse {
     private final Column[] columns;
     private final Reader reader;
     private final int[] stack = new int[Line.MOST_SIGNS + 1];
+    /** Of each term the fact that is chosen, or NONE. */
+    private final int[] chosen = new int[Line.MOST_SIGNS + 1];
     private final int[] planes = new int[PLANES];
     private final int[] otherPlanes = new int[PLANES];
 
@@ -1566,14 +1576,13 @@ public final class Tablehouse {
     }
 
     int byPlan(int table) {
-      if (readsOfChosen(table) >= Integer.bitCount(now.rows[table])) {
+      if (choose(table) >= Integer.bitCount(now.rows[table])) {
         return sift(table, 0, reader.codeEnd, now.rows[table]);
       }
       int set = 0;
       for (int term = 0; term < reader.terms; term++) {
-        int fact = chosenFact(table, term);
-        if (fact != Grid.NONE) {
-          int found = byIndex(table, reader.factCondition[fact]);
+        if (chosen[term] != Grid.NONE) {
+          int found = byIndex(table, reader.factCondition[chosen[term]]);
           set |= sift(table, reader.termStart[term], reader.termEnd[term], found);
         }
       }
@@ -1641,44 +1650,36 @@ public final class Tablehouse {
     }
 
     int price(int table) {
-      return Math.min(readsOfChosen(table), Integer.bitCount(now.rows[table]));
-    }
-
-    /** The sum of the reads; as many as there may be rows, if some term has nothing chosen. */
-    private int readsOfChosen(int table) {
-      int sum = 0;
-      for (int term = 0; term < reader.terms; term++) {
-        int fact = chosenFact(table, term);
-        if (fact == Grid.NONE) {
-          return Grid.MOST_ROWS;
-        }
-        sum += Integer.bitCount(byIndex(table, reader.factCondition[fact]));
-      }
-      return sum;
+      return Math.min(choose(table), Integer.bitCount(now.rows[table]));
     }
 
     int chosenNumber(int table, int term) {
       if (term < 0 || term >= reader.terms) {
         return Grid.NONE;
       }
-      int fact = chosenFact(table, term);
-      return fact == Grid.NONE ? Grid.NONE : fact - reader.termFact[term];
+      choose(table);
+      return chosen[term] == Grid.NONE ? Grid.NONE : chosen[term] - reader.termFact[term];
     }
 
-    private int chosenFact(int table, int term) {
-      int chosen = Grid.NONE;
-      int fewest = 0;
-      for (int fact = reader.termFact[term]; fact < reader.termFact[term + 1]; fact++) {
-        int condition = reader.factCondition[fact];
-        if (condition != Grid.NONE && isServed(table, condition)) {
-          int reads = Integer.bitCount(byIndex(table, condition));
-          if (chosen == Grid.NONE || reads < fewest) {
-            chosen = fact;
-            fewest = reads;
+    /** The sum of the reads; a term that has nothing to choose counts as many as rows may be. */
+    private int choose(int table) {
+      int sum = 0;
+      for (int term = 0; term < reader.terms; term++) {
+        int fewest = Grid.MOST_ROWS;
+        chosen[term] = Grid.NONE;
+        for (int fact = reader.termFact[term]; fact < reader.termFact[term + 1]; fact++) {
+          int condition = reader.factCondition[fact];
+          if (condition != Grid.NONE && isServed(table, condition)) {
+            int reads = Integer.bitCount(byIndex(table, condition));
+            if (chosen[term] == Grid.NONE || reads < fewest) {
+              chosen[term] = fact;
+              fewest = reads;
+            }
           }
         }
+        sum += fewest;
       }
-      return chosen;
+      return sum;
     }
 
     private boolean isServed(int table, int condition) {
@@ -2140,7 +2141,7 @@ public final class Tablehouse {
     private void enter(Grid grid, int table, int row) {
       for (int column = 0; column < Grid.WIDTH[table]; column++) {
         int place = Grid.FIRST[table] + column;
-        columns[place].enter(row, grid.cells[place][row]);
+        columns[place].enter(columns[place].kinds, row, grid.cells[place][row]);
       }
       if (counts.table == table) {
         counts.countIn(grid, row);
