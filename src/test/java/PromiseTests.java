@@ -146,6 +146,7 @@ public final class PromiseTests {
     promise1NewHouse();
     promise2Index();
     promise2IndexRefuses();
+    promise2AllKindsOnOneColumn();
     promise3Unindex();
     promise4Need();
     promise5Check();
@@ -222,6 +223,36 @@ public final class PromiseTests {
     refuses(h, OUT, () -> h.index(0, 6, 3));
     h.commit();
     is(1, () -> h.index(0, 0, 0));
+  }
+
+  private static void promise2AllKindsOnOneColumn() {
+    Tablehouse h = new Tablehouse();
+    is(1, () -> h.index(1, 0, 2));
+    is(1, () -> h.index(1, 0, 0));
+    is(1, () -> h.index(1, 0, 1));
+    is(7, () -> h.ofColumn(1, 0, 0));
+    four(h, 0);
+    four(h);
+    four(h, 47);
+    four(h);
+    type(h, "A!");
+    for (int road = 0; road <= 3; road++) {
+      compare(set(1, 3), h.road(1, road));
+    }
+    h.put(1, 1, 0, 40);
+    h.put(1, 0, 0, -1);
+    for (int road = 0; road <= 3; road++) {
+      compare(set(0, 3), h.road(1, road));
+    }
+    is(-1, () -> h.whose(1, 0, 0));
+    is(1, () -> h.whose(1, 0, 40));
+    is(0, () -> h.under(1, 0, 0));
+    is(set(1), () -> h.under(1, 0, 40));
+    is(set(1, 2), () -> h.spelled(1, 0, 4, -1));
+    is(true, h::isSound);
+    h.drop(1, 3);
+    is(set(0), () -> h.road(1, 1));
+    is(true, h::isSound);
   }
 
   private static void promise3Unindex() {
@@ -446,6 +477,7 @@ public final class PromiseTests {
     promise14Drop();
     promise14DropTakesAlong();
     promise14DropInARing();
+    promise14DropWholeHouse();
     promise14DropFaults();
     promise15Cut();
     promise16Alter();
@@ -780,6 +812,36 @@ public final class PromiseTests {
     is(set(4), () -> h.ofTable(2, 1));
     is(1, () -> h.drop(2, 4));
     is(0, () -> h.ofTable(2, 0));
+  }
+
+  /** Row k of table 0 leads to table 1, that to table 2, and that to row k - 1 of table 0. */
+  private static void promise14DropWholeHouse() {
+    Tablehouse h = new Tablehouse();
+    for (int table = 0; table <= 2; table++) {
+      h.index(table, 0, 0);
+    }
+    h.link(2, 1, 0, 0, 1);
+    h.link(1, 1, 2, 0, 1);
+    h.link(0, 1, 1, 0, 1);
+    for (int k = 0; k < 24; k++) {
+      h.addSix(k, k - 1, 0, 0, 0, 0);
+      h.addThree(k, k, 0);
+      four(h, k, k, 0, 0);
+    }
+    h.begin();
+    is(3, () -> h.drop(0, 23));
+    is(34, () -> h.drop(1, 11));
+    is(37, h::back);
+    h.begin();
+    is(72, () -> h.drop(0, 0));
+    is(0, () -> h.ofTable(0, 0) + h.ofTable(1, 0) + h.ofTable(2, 0));
+    is(true, h::isSound);
+    is(72, h::back);
+    is(true, h::isSound);
+    h.unlink(0, 1);
+    is(3, () -> h.drop(0, 0));
+    is(2, () -> h.drop(2, 23));
+    is(23, () -> h.ofTable(0, 0));
   }
 
   private static void promise14DropFaults() {
@@ -1181,6 +1243,7 @@ public final class PromiseTests {
     promise24Ask();
     promise24AskKeepsFive();
     promise24AskWhatChangesTakeOut();
+    promise24AskWhatIsLetGoTakesOut();
     promise25RoadConditions();
     promise25RoadBinding();
     promise25RoadsAgree();
@@ -1188,6 +1251,7 @@ public final class PromiseTests {
     promise27Cost();
     promise28IsKept();
     promise29Kept();
+    promise29KeptOfLongAndShortTexts();
     promise30Scratch();
   }
 
@@ -1238,7 +1302,8 @@ public final class PromiseTests {
     Object[][] due = {
       {"", 0}, {"A", 1}, {"A!", -1}, {"A!!", 2}, {"A!1", 2}, {"A=", 2}, {"A=7", -1},
       {"A=07", -1}, {"A=77", -1}, {"A=777", 4}, {"A=A", -1}, {"A=F", -1}, {"A=BB", 3},
-      {"A=B1", 3}, {"A=1B", 3}, {"A<9", -1}, {"A>B", -1}, {"A~", 2}, {"A~7", -1},
+      {"A=B1", 3}, {"A=1B", 3},
+      {"A=1A", 3}, {"A~1A", 3}, {"A~A", 2}, {"A<0F", 3}, {"A<9", -1}, {"A>B", -1}, {"A~", 2}, {"A~7", -1},
       {"A~47", -1}, {"A~477", 4}, {"A~B", 2}, {"A~!", 2}, {"A==", 2}, {"A&", 1}, {"7", 0},
       {"=A", 0}, {"!", 0}, {"&", 0}, {"|", 0}, {")", 0}, {"-", 1}, {"--", 2}, {"-A", 2},
       {"--A!", -1}, {"---A=1", -1}, {"A-", 1}, {"A=-1", 2}, {"A!&", 3}, {"A!&&", 3},
@@ -1248,7 +1313,8 @@ public final class PromiseTests {
       {"(A!)&(B!)", -1}, {"(A!)|((B!)&(C!))", -1}, {"(A!|(B!&(", 8}, {"(A!)A", 4}, {"-(", 2},
       {"-((A=1|B=2)&C~3)|--D!", -1}, {"(A=1", 4}, {"(A=12", 5}, {"(A=12)", -1}, {"A=1)", 3},
       {"(A!)(", 4}, {"A(", 1}, {"A=(", 2}, {"A=1&B=2|C<3&D>E|E~12&F!", -1},
-      {"A=1|B=2|C=3|D=4|E=5|F=6|A=7|B=8|C=9|D=0", -1}, {"-".repeat(40), 40},
+      {"A=1|B=2|C=3|D=4|E=5|F=6|A=7|B=8|C=9|D=0", -1}, {"-".repeat(40), 40}, {"", 0},
+      {"A=1", -1}, {"", 0}, {"(", 1}, {"", 0},
     };
     Tablehouse h = new Tablehouse();
     for (Object[] each : due) {
@@ -1392,6 +1458,32 @@ public final class PromiseTests {
     is(true, () -> h.isKept(0));
     h.put(0, 0, 0, 3);
     is(false, () -> h.isKept(0));
+    is(true, h::isSound);
+  }
+
+  private static void promise24AskWhatIsLetGoTakesOut() {
+    Tablehouse h = new Tablehouse();
+    h.index(1, 0, 0);
+    four(h, 5);
+    four(h, 6);
+    h.link(2, 0, 1, 0, 2);
+    h.link(2, 1, 1, 0, 2);
+    h.link(0, 1, 1, 0, 2);
+    h.link(0, 4, 1, 0, 2);
+    h.addThree(5, 5, 1);
+    h.addSix(0, -1, 0, 0, 5, 0);
+    h.addSix(0, 5, 0, 0, -1, 0);
+    type(h, "A!").ask(2);
+    type(h, "B!").ask(2);
+    type(h, "C!").ask(2);
+    type(h, "B!").ask(0);
+    type(h, "E!").ask(0);
+    // Of one row two columns, of two rows a column each.
+    is(1, () -> h.drop(1, 0));
+    is(4, () -> h.house(5));
+    is(1, () -> h.house(4));
+    is(2, () -> h.kept(0, 0));
+    is(set(2), () -> h.kept(0, 2));
     is(true, h::isSound);
   }
 
@@ -1621,6 +1713,24 @@ public final class PromiseTests {
     refuses(h, OUT, () -> h.kept(1, 0));
   }
 
+  private static void promise29KeptOfLongAndShortTexts() {
+    Tablehouse h = new Tablehouse();
+    type(h, "-".repeat(30) + "A=1&B=2|F!").ask(0);
+    is(40, () -> h.kept(0, 3));
+    is(set(0, 1, 5), () -> h.kept(0, 2));
+    // What was typed before LINE was emptied is no part of it.
+    for (int length = 2; length <= 6; length++) {
+      type(h, "A!BCDEF");
+      type(h, "A!&-B!".substring(0, length));
+      if (h.breaks(0) == -1) {
+        h.ask(0);
+        compare(length, h.kept(h.house(4) - 1, 3));
+        compare(length == 2 ? set(0) : set(0, 1), h.kept(h.house(4) - 1, 2));
+      }
+    }
+    is(3, () -> h.house(4));
+  }
+
   private static void promise30Scratch() {
     Tablehouse h = new Tablehouse();
     refuses(h, OUT, () -> h.scratch(0));
@@ -1642,7 +1752,9 @@ public final class PromiseTests {
     promise33Under();
     promise34Whose();
     promise35Spelled();
-    promise35And36AllWords();
+    promise35SpelledAllWords();
+    promise36EndingAllWords();
+    promise36EndingWhenWordsGo();
     promise36Ending();
     promise37Lens();
     promise38Narrow();
@@ -1821,26 +1933,35 @@ public final class PromiseTests {
   private static final String[] SYLLABLES =
       {"a", "b", "ab", "ba", "aa", "bb", "aba", "bab", "abb", "baa"};
 
+  private static String word(int value) {
+    return SYLLABLES[value / 10] + SYLLABLES[value % 10];
+  }
+
+  private static void addEndings(java.util.TreeSet<String> texts, String word) {
+    for (int at = 0; at < word.length(); at++) {
+      texts.add(word.substring(at));
+    }
+  }
+
+  private static Tablehouse worded(int from) {
+    Tablehouse h = new Tablehouse();
+    h.index(2, 1, 2);
+    for (int row = 0; row < 20; row++) {
+      h.addThree(1, from + row, 2);
+    }
+    return h;
+  }
+
   /** All values, twenty at a time, under all patterns. */
-  private static void promise35And36AllWords() {
+  private static void promise35SpelledAllWords() {
     for (int from = 0; from < 100; from += 20) {
-      Tablehouse h = new Tablehouse();
-      h.index(2, 1, 2);
-      java.util.TreeSet<String> texts = new java.util.TreeSet<>();
-      for (int row = 0; row < 20; row++) {
-        h.addThree(1, from + row, 2);
-        String word = SYLLABLES[(from + row) / 10] + SYLLABLES[(from + row) % 10];
-        for (int at = 0; at < word.length(); at++) {
-          texts.add(word.substring(at));
-        }
-      }
       for (int one = 0; one <= 9; one++) {
+        Tablehouse h = worded(from);
         for (int two = -1; two <= 9; two++) {
           String part = SYLLABLES[one] + (two == -1 ? "" : SYLLABLES[two]);
           int due = 0;
           for (int row = 0; row < 20; row++) {
-            String word = SYLLABLES[(from + row) / 10] + SYLLABLES[(from + row) % 10];
-            due |= word.contains(part) ? 1 << row : 0;
+            due |= word(from + row).contains(part) ? 1 << row : 0;
           }
           compare(due, h.spelled(2, 1, one, two));
           type(h, "B~" + one + (two == -1 ? "" : two));
@@ -1849,6 +1970,16 @@ public final class PromiseTests {
           }
         }
       }
+    }
+  }
+
+  private static void promise36EndingAllWords() {
+    for (int from = 0; from < 100; from += 20) {
+      Tablehouse h = worded(from);
+      java.util.TreeSet<String> texts = new java.util.TreeSet<>();
+      for (int row = 0; row < 20; row++) {
+        addEndings(texts, word(from + row));
+      }
       int k = 0;
       for (String text : texts) {
         compare(text, h.ending(2, 1, k));
@@ -1856,6 +1987,28 @@ public final class PromiseTests {
       }
       compare("", h.ending(2, 1, k));
       compare(k, h.ofColumn(2, 1, 8));
+    }
+  }
+
+  /** Each value beside each other one, which then goes. */
+  private static void promise36EndingWhenWordsGo() {
+    for (int stays = 0; stays < 100; stays++) {
+      Tablehouse h = new Tablehouse();
+      h.index(2, 1, 2);
+      h.addThree(0, stays, 0);
+      h.addThree(0, 0, 0);
+      java.util.TreeSet<String> alone = new java.util.TreeSet<>();
+      addEndings(alone, word(stays));
+      for (int goes = 0; goes < 100; goes++) {
+        java.util.TreeSet<String> both = new java.util.TreeSet<>(alone);
+        addEndings(both, word(goes));
+        h.put(2, 1, 1, goes);
+        compare(both.size(), h.ofColumn(2, 1, 8));
+        h.put(2, 1, 1, -1);
+        compare(alone.size(), h.ofColumn(2, 1, 8));
+      }
+      compare(set(0), h.spelled(2, 1, stays / 10, stays % 10));
+      compare(true, h.isSound());
     }
   }
 
@@ -2160,6 +2313,11 @@ public final class PromiseTests {
     h.put(2, 1, 0, 2);
     refuses(h, OUT, () -> h.group(2, 0, 1, 2, 0));
     is(set(1, 2), () -> h.group(2, 0, 1, 0, 1));
+    is(0, () -> h.group(2, 2, 1, 0, 0));
+    is(set(0, 1, 2, 3, 4), () -> h.group(2, 2, 1, 0, 1));
+    h.put(2, 3, 2, 99);
+    is(set(0, 1, 2, 4), () -> h.group(2, 2, 1, 0, 1));
+    is(99, () -> h.group(2, 2, 1, 1, 0));
   }
 
   private static void promise46Total() {
@@ -2569,6 +2727,14 @@ public final class PromiseTests {
     compare(stampBySteps(h), h.stamp());
     h.unindex(1, 0, 1);
     compare(stampBySteps(h), h.stamp());
+    for (int kind = 0; kind <= 2; kind++) {
+      Tablehouse g = new Tablehouse();
+      g.index(2, 2, kind);
+      g.addThree(0, 0, 0);
+      g.addThree(0, 0, 99);
+      g.addThree(0, 0, -1);
+      compare(stampBySteps(g), g.stamp());
+    }
   }
 
   private static void promise57IsSound() {
