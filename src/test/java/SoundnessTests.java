@@ -58,6 +58,13 @@ public final class SoundnessTests {
       indexed(house).rowsOf[value] ^= 1 << 7;
       look("ordered " + value, false, house);
     }
+    for (int table = 0; table <= 2; table++) {
+      Tablehouse house = furnished();
+      house.index(table, 0, 1);
+      int place = Tablehouse.Grid.FIRST[table];
+      ((Tablehouse.Column[]) part(house, "columns"))[place].rowsOf[5] ^= 1 << 7;
+      look("ordered of table " + table, false, house);
+    }
     Tablehouse house = furnished();
     indexed(house).rowsOf[47] = 0;
     look("ordered, one less", false, house);
@@ -82,6 +89,13 @@ public final class SoundnessTests {
       look("cells again", true, house);
       counts.countIn(now, row);
       look("a row that cells count twice", false, house);
+    }
+    Field field = Tablehouse.Cube.class.getDeclaredField("sizes");
+    field.setAccessible(true);
+    for (int place = 0; place < furnished().house(9); place++) {
+      Tablehouse house = furnished();
+      ((int[]) field.get(part(house, "counts")))[place]++;
+      look("cell at " + place, false, house);
     }
     Tablehouse house = new Tablehouse();
     ((Tablehouse.Cube) part(house, "counts")).countIn((Tablehouse.Grid) part(house, "now"), 0);
