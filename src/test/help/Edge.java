@@ -180,6 +180,40 @@ abstract class Edge {
     same(false, BAD.equals(answerOf(() -> call.make(greatest))));
   }
 
+  /** Not let, if LINE is not right for just that table. */
+  static void needsRight(Tablehouse h, OfOne call) {
+    for (String text : new String[] {"", "A!&", "A=", "(((A!)))"}) {
+      type(h, text);
+      refuses(h, STATE, () -> call.make(0), () -> call.make(1), () -> call.make(2));
+    }
+    String[] texts = {"A<C", "A<D", "A<E"};
+    for (int each = 0; each < 3; each++) {
+      type(h, texts[each]);
+      for (int table = 0; table <= 2; table++) {
+        int asked = table;
+        if (table < 3 - each) {
+          same(false, STATE.equals(answerOf(() -> call.make(asked))));
+        } else {
+          refuses(h, STATE, () -> call.make(asked));
+        }
+      }
+    }
+  }
+
+  /** Not let within a transaction, be it the first or the third, and let again behind it. */
+  static void needsNoTransaction(Tablehouse h, Call... calls) {
+    for (int deep = 1; deep <= 3; deep++) {
+      h.begin();
+      refuses(h, STATE, calls);
+    }
+    h.back();
+    h.commit();
+    h.back();
+    for (Call call : calls) {
+      same(false, STATE.equals(answerOf(call)));
+    }
+  }
+
   /** Empties LINE and types a text, six signs a call. */
   static Tablehouse type(Tablehouse h, String text) {
     int[] codes = new int[6 * (text.length() / 6 + 1)];
