@@ -16,7 +16,7 @@ abstract class Edge {
   static final int[] WIDTH = {6, 4, 3};
   private static final String SIGNS = "0123456789ABCDEF=<>~!&|-()";
   private static final List<String> quotes = new ArrayList<>();
-  private static String current = "";
+  private static String current = "one promise";
   private static int looked;
   private static int wrong;
 
@@ -52,7 +52,8 @@ abstract class Edge {
     if (args.length > 0) {
       findQuotes(Path.of(args[0]));
     }
-    System.out.println(quotes.size() + " sentences, " + looked + " answers, " + wrong + " wrong");
+    String sentences = quotes.isEmpty() ? "" : quotes.size() + " sentences, ";
+    System.out.println(sentences + looked + " answers, " + wrong + " wrong");
     System.exit(wrong == 0 ? 0 : 1);
   }
 
@@ -116,11 +117,26 @@ abstract class Edge {
   /** Each call tells a fault or -9, which is counted, and changes nothing else. */
   static void tells(Tablehouse h, int due, Call... calls) {
     for (Call call : calls) {
-      List<Object> state = stateOf(h);
+      long digest = h.digest();
+      String line = h.line();
       is(due, call);
-      state.set(7, (int) state.get(7) + 1);
-      same(state, stateOf(h));
+      same(digest + weightOfRefused(h), h.digest());
+      same(line, h.line());
     }
+  }
+
+  /** By how much the digest is greater, if REFUSED is one more: 31 for each number behind it. */
+  private static long weightOfRefused(Tablehouse h) {
+    int behind = 2 + 6 * h.house(8) + 8 + 1 + 1;
+    for (int table = 0; table <= 2; table++) {
+      int ofLine = h.breaks(table) == -1 ? 3 : 0;
+      behind += 4 + 1 + ofLine + WIDTH[table] * (9 + 1 + 5);
+    }
+    long weight = 1;
+    for (int each = 0; each < behind; each++) {
+      weight *= 31;
+    }
+    return weight;
   }
 
   /** Each call answers that and changes nothing at all. */
@@ -130,18 +146,6 @@ abstract class Edge {
       is(due, call);
       same(digest, h.digest());
     }
-  }
-
-  /** What house() tells of 0 to 9, the stamp and the line: few calls, as an object has but 512. */
-  private static List<Object> stateOf(Tablehouse h) {
-    List<Object> state = new ArrayList<>();
-    for (int what = 0; what <= 9; what++) {
-      state.add(h.house(what));
-    }
-    state.add(h.stamp());
-    state.add(h.line());
-    state.add(h.isSound());
-    return state;
   }
 
   /** No such table is let, nor any number that is none; each that is one is let. */

@@ -4,30 +4,41 @@ import java.lang.reflect.Field;
  * isSound() answers true in every run of calls, so only a house that is spoilt from outside can
  * show that it looks at all: each test here spoils one thing behind the face.
  */
-public final class SoundnessTests {
-  private static int wrong;
-
-  public static void main(String[] args) throws ReflectiveOperationException {
-    spoilsIndexes();
-    spoilsCells();
-    spoilsRules();
-    spoilsAnswers();
-    System.out.println(wrong == 0 ? "each spoilt house is seen" : wrong + " houses are not seen");
-    System.exit(wrong == 0 ? 0 : 1);
+public final class SoundnessTests extends Edge {
+  public static void main(String[] args) {
+    sentence("Promise 57", "each index has what the ROWS say, and nothing else",
+        SoundnessTests::spoilsIndexes);
+    sentence("Promise 57", "each CELL counts what the ROWS say, and there is no other",
+        SoundnessTests::spoilsCells);
+    sentence("Promise 57", "all RULES hold", SoundnessTests::spoilsRules);
+    sentence("Promise 57", "each kept ANSWER is what would be found now",
+        SoundnessTests::spoilsAnswers);
+    sentence("Promise 57", "LINE has for each TABLE for which it is RIGHT the same answer by all "
+        + "ROADS", SoundnessTests::spoilsRoads);
+    sentence("Promise 57", "for each COLUMN of each TABLE the GROUPS come to what the TABLE has in sum "
+        + "and in how many ROWS", SoundnessTests::spoilsSums);
+    sentence("Promise 58", "1 if isSound(), otherwise 0", SoundnessTests::tellsInDigest);
+    end(args);
   }
 
-  private static void look(String what, boolean due, Tablehouse house) {
+  private static void look(boolean due, Tablehouse house) {
     long digest = house.digest();
-    if (house.isSound() != due || house.digest() != digest) {
-      wrong++;
-      System.out.println(what + ": isSound() is not " + due);
-    }
+    same(due, house.isSound());
+    same(digest, house.digest());
   }
 
-  private static Object part(Tablehouse house, String name) throws ReflectiveOperationException {
-    Field field = Tablehouse.class.getDeclaredField(name);
-    field.setAccessible(true);
-    return field.get(house);
+  private static Object part(Tablehouse house, String name) {
+    return fieldOf(Tablehouse.class, house, name);
+  }
+
+  private static Object fieldOf(Class<?> type, Object object, String name) {
+    try {
+      Field field = type.getDeclaredField(name);
+      field.setAccessible(true);
+      return field.get(object);
+    } catch (ReflectiveOperationException gone) {
+      throw new IllegalStateException(gone);
+    }
   }
 
   private static Tablehouse furnished() {
@@ -40,100 +51,169 @@ public final class SoundnessTests {
     house.addFour(-1, 1, 2, 3);
     house.addSix(1, 2, 3, 4, 5, 6);
     house.addSix(1, 2, -1, 4, 5, 6);
-    look("nothing", true, house);
+    look(true, house);
     return house;
   }
 
-  /** Column 0 of table 1. */
-  private static Tablehouse.Column indexed(Tablehouse house) throws ReflectiveOperationException {
-    return ((Tablehouse.Column[]) part(house, "columns"))[Tablehouse.Grid.FIRST[1]];
+  private static Tablehouse.Column columnAt(Tablehouse house, int table, int column) {
+    return ((Tablehouse.Column[]) part(house, "columns"))[Tablehouse.Grid.FIRST[table] + column];
   }
 
-  private static void spoilsIndexes() throws ReflectiveOperationException {
+  private static Tablehouse.Column indexed(Tablehouse house) {
+    return columnAt(house, 1, 0);
+  }
+
+  private static Tablehouse.Grid rowsOf(Tablehouse house) {
+    return (Tablehouse.Grid) part(house, "now");
+  }
+
+  private static void spoilsIndexes() {
     for (int value : new int[] {0, 47, 99}) {
       Tablehouse house = furnished();
       indexed(house).rowOf[value] = 7;
-      look("unique " + value, false, house);
+      look(false, house);
       house = furnished();
       indexed(house).rowsOf[value] ^= 1 << 7;
-      look("ordered " + value, false, house);
+      look(false, house);
     }
     for (int table = 0; table <= 2; table++) {
-      Tablehouse house = furnished();
-      house.index(table, 0, 1);
-      int place = Tablehouse.Grid.FIRST[table];
-      ((Tablehouse.Column[]) part(house, "columns"))[place].rowsOf[5] ^= 1 << 7;
-      look("ordered of table " + table, false, house);
+      for (int column = 0; column < WIDTH[table]; column++) {
+        Tablehouse house = furnished();
+        house.index(table, column, 1);
+        columnAt(house, table, column).rowsOf[5] ^= 1 << 7;
+        look(false, house);
+      }
     }
     Tablehouse house = furnished();
     indexed(house).rowsOf[47] = 0;
-    look("ordered, one less", false, house);
+    look(false, house);
     house = furnished();
     indexed(house).rowsOfNull = 0;
-    look("ordered with NULL", false, house);
+    look(false, house);
     for (int text : new int[] {2, Tablehouse.Words.word(47), Tablehouse.Words.TEXTS - 1}) {
       house = furnished();
       indexed(house).rowsOfText[text] ^= 1 << 7;
-      look("word " + text, false, house);
+      look(false, house);
     }
   }
 
-  private static void spoilsCells() throws ReflectiveOperationException {
+  private static void spoilsCells() {
     for (int row = 0; row <= 1; row++) {
       Tablehouse house = furnished();
       Tablehouse.Cube counts = (Tablehouse.Cube) part(house, "counts");
-      Tablehouse.Grid now = (Tablehouse.Grid) part(house, "now");
-      counts.countOut(now, row);
-      look("a row that no cell counts", false, house);
-      counts.countIn(now, row);
-      look("cells again", true, house);
-      counts.countIn(now, row);
-      look("a row that cells count twice", false, house);
+      counts.countOut(rowsOf(house), row);
+      look(false, house);
+      counts.countIn(rowsOf(house), row);
+      look(true, house);
+      counts.countIn(rowsOf(house), row);
+      look(false, house);
     }
-    Field field = Tablehouse.Cube.class.getDeclaredField("sizes");
-    field.setAccessible(true);
     for (int place = 0; place < furnished().house(9); place++) {
       Tablehouse house = furnished();
-      ((int[]) field.get(part(house, "counts")))[place]++;
-      look("cell at " + place, false, house);
+      Object counts = part(house, "counts");
+      ((int[]) fieldOf(Tablehouse.Cube.class, counts, "sizes"))[place]++;
+      look(false, house);
     }
     Tablehouse house = new Tablehouse();
-    ((Tablehouse.Cube) part(house, "counts")).countIn((Tablehouse.Grid) part(house, "now"), 0);
-    look("cells of no row", false, house);
+    ((Tablehouse.Cube) part(house, "counts")).countIn(rowsOf(house), 0);
+    look(false, house);
   }
 
-  private static void spoilsRules() throws ReflectiveOperationException {
+  private static void spoilsRules() {
     Tablehouse house = furnished();
     indexed(house).isNeeded = true;
-    look("needed", false, house);
+    look(false, house);
     house = furnished();
     indexed(house).low = 1;
-    look("least of the range", false, house);
+    look(false, house);
     house = furnished();
     indexed(house).high = 46;
-    look("greatest of the range", false, house);
+    look(false, house);
     house = furnished();
     indexed(house).linkTo = 0;
-    look("link", false, house);
+    look(false, house);
     house = furnished();
-    Tablehouse.Grid now = (Tablehouse.Grid) part(house, "now");
     int twins = Tablehouse.Grid.FIRST[1] + 1;
-    ((Tablehouse.Column[]) part(house, "columns"))[twins].build(0, now.rows[1], now.cells[twins]);
-    look("twins", false, house);
+    Tablehouse.Grid now = rowsOf(house);
+    columnAt(house, 1, 1).build(0, now.rows[1], now.cells[twins]);
+    look(false, house);
   }
 
-  private static void spoilsAnswers() throws ReflectiveOperationException {
+  private static void spoilsAnswers() {
     Tablehouse house = furnished();
-    house.say(26, 10, 20, -1, -1, -1);
-    house.ask(1);
-    look("a right answer", true, house);
+    type(house, "A!").ask(1);
+    look(true, house);
     Tablehouse.Line typed = (Tablehouse.Line) part(house, "typed");
     ((Tablehouse.Answers) part(house, "answers")).miss(0, typed, 1);
-    look("a wrong answer", false, house);
-    house = furnished();
-    house.say(26, 15, 20, -1, -1, -1);
+    look(false, house);
+    house = type(furnished(), "F!");
     typed = (Tablehouse.Line) part(house, "typed");
     ((Tablehouse.Answers) part(house, "answers")).miss(1, typed, 0);
-    look("an answer that nobody can ask", false, house);
+    look(false, house);
+  }
+
+  /** What spoils a road spoils an index or the rows as well, so this part is asked by itself. */
+  private static boolean agree(Tablehouse house) {
+    Tablehouse.Audit audit = (Tablehouse.Audit) part(house, "audit");
+    Tablehouse.Line typed = (Tablehouse.Line) part(house, "typed");
+    return audit.holdRoads(typed, (Tablehouse.Reader) part(house, "reader"));
+  }
+
+  private static void spoilsRoads() {
+    Tablehouse house = type(furnished(), "A=47");
+    same(true, agree(house));
+    indexed(house).rowsOf[47] = 0;
+    same(false, agree(house));
+    // What no index of a table can answer is not touched; a line that is not right is not asked.
+    same(true, agree(type(house, "B=1")));
+    same(true, agree(type(house, "A=")));
+    // A row that is none: by bits it fits, row by row it does not.
+    for (int table = 0; table <= 2; table++) {
+      house = type(furnished(), "B!");
+      rowsOf(house).rows[table] |= 1 << 30;
+      same(false, agree(house));
+    }
+    house = type(furnished(), "E!");
+    rowsOf(house).rows[1] |= 1 << 30;
+    same(true, agree(house));
+  }
+
+  private static void spoilsSums() {
+    for (int table = 0; table <= 2; table++) {
+      Tablehouse house = furnished();
+      rowsOf(house).rows[table] |= 1 << 30;
+      look(false, house);
+      for (int column = 0; column < WIDTH[table]; column++) {
+        // A number that is no VALUE is in no GROUP, though it has a rule's leave.
+        house = new Tablehouse();
+        house.cube((table + 1) % 3, 0, 1, 2);
+        house.sow(table, 2, 0, 0);
+        columnAt(house, table, column).high = 100;
+        look(true, house);
+        rowsOf(house).cells[Tablehouse.Grid.FIRST[table] + column][1] = 100;
+        look(false, house);
+      }
+    }
+  }
+
+  private static void tellsInDigest() {
+    Tablehouse house = furnished();
+    long digest = house.digest();
+    indexed(house).isNeeded = true;
+    // Of ofColumn() 1 there are then 1 more, and of isSound(), the last one, 1 less.
+    long asked = 1;
+    for (int behind = 0; behind < placesBehind(house); behind++) {
+      asked *= 31;
+    }
+    same(digest + asked - 1, house.digest());
+  }
+
+  /** How many numbers the digest takes up behind whether column 0 of table 1 is needed. */
+  private static int placesBehind(Tablehouse house) {
+    int ofColumn = 9 + 1 + 5;
+    int ofTable = 4 + 1;
+    same(0, house.house(8));
+    same("", house.line());
+    return 7 + 1 + 5 + 3 * ofColumn + ofTable + 3 * ofColumn + 8 + 1 + 1;
   }
 }
