@@ -2035,7 +2035,7 @@ public final class Tablehouse {
         if (to != Grid.NONE && columns[place].linkKind == FALLS) {
           int table = Grid.TABLE_OF[place];
           int falling = now.rowsMeeting(place, to, gone[Grid.TABLE_OF[to]]);
-          hasMore |= (falling & ~gone[table]) != 0;
+          hasMore = hasMore || (falling & ~gone[table]) != 0;
           gone[table] |= falling;
         }
       }

@@ -343,6 +343,7 @@ public final class DescriptionEdges extends Edge {
           // What leads to itself always finds itself.
           is(2, () -> row(h, 1, 50));
         });
+    sentence("2", "== 2. Rules", DescriptionEdges::rulesOfEachColumn);
     sentence("2", "The KIND of a LINK: 0 HOLDS, 1 FALLS, 2 LETS GO.", () -> {
       for (int kind = 0; kind <= 2; kind++) {
         Tablehouse h = column(3);
@@ -372,9 +373,57 @@ public final class DescriptionEdges extends Edge {
     });
   }
 
+  /** Three rows in a table whose column, with 40 to 42, has all rules of its own. */
+  private static Tablehouse ruled(int table, int column) {
+    Tablehouse h = new Tablehouse();
+    h.sow(table, 3, (140 - 7 * column) % 100, 1);
+    h.need(table, column, true);
+    h.check(table, column, 40, 50);
+    h.index(table, column, 0);
+    return h;
+  }
+
+  private static void rulesOfEachColumn() {
+    for (int table = 0; table <= 2; table++) {
+      for (int column = 0; column < WIDTH[table]; column++) {
+        int t = table;
+        int c = column;
+        int to = (table + 1) % 3;
+        Tablehouse h = ruled(t, c);
+        tells(h, -2, () -> h.put(t, 0, c, -1));
+        tells(h, -3, () -> h.put(t, 0, c, 39), () -> h.put(t, 2, c, 51));
+        tells(h, -4, () -> h.put(t, 0, c, 41), () -> h.put(t, 2, c, 41));
+        h.index(to, 1, 0);
+        row(h, to, 1, 40, 1, 1, 1, 1);
+        row(h, to, 2, 41, 2, 2, 2, 2);
+        row(h, to, 3, 42, 3, 3, 3, 3);
+        h.link(t, c, to, 1, 0);
+        tells(h, -5, () -> h.put(t, 2, c, 43), () -> h.put(to, 2, 1, 43), () -> h.drop(to, 0));
+        is(1, () -> h.drop(t, 0));
+        is(1, () -> h.drop(to, 0));
+        is(true, h::isSound);
+      }
+    }
+  }
+
   // ---- section 3
 
   private static void changes() {
+    sentence("3", "A CHANGE puts ROWS in, takes ROWS out, or gives ROWS something else than they have, "
+        + "all at once.", () -> {
+          // What a row is given first would make another one fit, or no more.
+          Tablehouse h = column(5, 6, 7);
+          type(h, "A=5|A=6|A=7");
+          is(3, () -> h.shift(1, 0, 1));
+          is(set(0, 1), () -> fitting(h, 1, "A=6|A=7"));
+          is(8, () -> h.get(1, 2, 0));
+          type(h, "A>6|A<9&B!");
+          is(2, () -> h.alter(1, 0, 8));
+          h.begin();
+          is(3, () -> h.cut(1));
+          is(12, () -> h.sow(1, 12, 0, 0));
+          is(15, () -> h.house(1));
+        });
     sentence("3", "It is made, if all RULES hold for all that there is behind it (what was in between "
         + "does not count).", DescriptionEdges::whatWasInBetween);
     sentence("3", "Otherwise nothing is changed and a FAULT is told", () -> {
@@ -561,6 +610,25 @@ public final class DescriptionEdges extends Edge {
       is(set(2), () -> h.ofTable(0, 1));
       is(0, () -> h.ofTable(1, 1));
       is(0, () -> h.ofTable(2, 1));
+      // Row k of table 0 leads to table 1, that one to table 2, and that one to row k - 1.
+      Tablehouse g = new Tablehouse();
+      for (int table = 0; table <= 2; table++) {
+        g.index(table, 0, 0);
+      }
+      for (int k = 0; k < 24; k++) {
+        row(g, 0, k, k == 0 ? -1 : k);
+        row(g, 2, k, k == 0 ? -1 : k - 1);
+        row(g, 1, k, k);
+      }
+      g.link(2, 1, 0, 0, 1);
+      g.link(1, 1, 2, 0, 1);
+      g.link(0, 1, 1, 0, 1);
+      g.begin();
+      is(12 + 12 + 11, () -> g.drop(1, 12));
+      is(35, g::back);
+      is(24 + 23 + 23, () -> g.drop(0, 0));
+      is(set(0), () -> g.ofTable(1, 1));
+      is(set(0), () -> g.ofTable(2, 1));
     });
     sentence("3", "Of all ROWS that stay, each gets NULL wherever it has, in a COLUMN with a LINK that "
         + "LETS GO, the VALUE which a ROW that goes has in the COLUMN to which that leads.",
@@ -970,6 +1038,14 @@ public final class DescriptionEdges extends Edge {
           }
           is(7, () -> h.ofColumn(1, 0, 8));
           is(set(0, 2), () -> h.spelled(1, 0, 0, -1));
+          // "ab" comes and goes: what is left of "aabab" keeps all that it has.
+          h.put(1, 2, 0, 1);
+          h.drop(1, 2);
+          is(5, () -> h.ofColumn(1, 0, 8));
+          is("aabab", () -> h.ending(1, 0, 0));
+          is(set(0), () -> h.spelled(1, 0, 4, 7));
+          row(h, 1, 0);
+          is(set(0, 2), () -> h.spelled(1, 0, 0, -1));
           h.put(1, 0, 0, -1);
           is(2, () -> h.ofColumn(1, 0, 8));
           is(set(2), () -> h.spelled(1, 0, 0, -1));
@@ -1211,8 +1287,12 @@ public final class DescriptionEdges extends Edge {
     breaks(h, 2, "A!!", 2);
     breaks(h, 2, "A!7", 2);
     breaks(h, 2, "A~", 2);
-    breaks(h, 2, "A~B", 2);
-    breaks(h, 2, "A~7B", 3);
+    for (String letter : new String[] {"A", "C", "F"}) {
+      breaks(h, 0, "A~" + letter, 2);
+      breaks(h, 0, "A~7" + letter, 3);
+      breaks(h, 0, "A=7" + letter, 3);
+      breaks(h, 0, "A=B" + letter, 3);
+    }
     breaks(h, 2, "7=A", 0);
   }
 
@@ -1277,6 +1357,14 @@ public final class DescriptionEdges extends Edge {
             is(set(0, 1, 2), () -> fitting(h, 1, "A~20"));
             is(0, () -> fitting(h, 1, "A~5"));
             is(0, () -> fitting(h, 1, "A~99"));
+            // "bbbb", "aa", "ab"
+            Tablehouse g = column(55, 0, 1);
+            g.index(1, 0, kind);
+            is(set(1, 2), () -> fitting(g, 1, "A~0"));
+            is(set(1), () -> fitting(g, 1, "A~4"));
+            is(set(1), () -> fitting(g, 1, "A~00"));
+            is(set(0, 2), () -> fitting(g, 1, "A~1"));
+            is(set(0), () -> fitting(g, 1, "A~55"));
           }
         });
     sentence("6", "With \"-\" in front a FACT fits just those that it does not fit without (so "
@@ -1604,6 +1692,16 @@ public final class DescriptionEdges extends Edge {
     // Out of table 1, and let go in table 0: the column is the one that leads there.
     staying(set(0), h -> h.drop(1, 1), "A=1", "B!");
     staying(set(0, 1), h -> h.drop(1, 0), "A=1", "B!");
+    // What an earlier one has changed is no matter.
+    Tablehouse g = column(1, 2);
+    asked(g, 1, "B!");
+    g.put(1, 0, 1, 9);
+    is(1, () -> g.house(5));
+    asked(g, 1, "B!");
+    g.put(1, 0, 2, 9);
+    g.put(0, g.addSix(1, 1, 1, 1, 1, 1), 1, 9);
+    is(1, () -> g.house(5));
+    is(true, () -> g.isKept(1));
     // One that fails takes none out; what is undone counts none, though rows come again.
     Tablehouse h = column(1, 2);
     h.index(1, 0, 0);

@@ -1,5 +1,6 @@
 /** Each "Returns" and each "Throws" of the promises that names a boundary case, by itself. */
 public final class PromiseEdges extends Edge {
+  private static final String A_COLUMN = "- `column`: a COLUMN of it";
   private static final String NO_COLUMN = "if there is no such TABLE, or COLUMN of it";
   private static final String NO_TABLE = "if there is no such TABLE";
   private static final String OPEN = "if a transaction is open";
@@ -216,7 +217,7 @@ public final class PromiseEdges extends Edge {
     }
     needsNoTransaction(h, () -> h.unindex(1, 1, 0), () -> h.unindex(1, 1, 1), () -> h.unindex(0, 0, 0));
     // From another table, from the own one, from the column itself.
-    int[][] links = {{0, 5}, {2, 2}, {1, 3}, {1, 0}};
+    int[][] links = {{0, 0}, {0, 5}, {2, 2}, {1, 3}, {1, 0}};
     for (int[] from : links) {
       h.link(from[0], from[1], 1, 0, 2);
       refuses(h, STATE, () -> h.unindex(1, 0, 0));
@@ -507,6 +508,21 @@ public final class PromiseEdges extends Edge {
       Tablehouse h = column(5);
       needsWithin(h, -1, 99, value -> h.put(1, 0, 0, value));
     });
+    sentence("Promise 16", "Gives all ROWS that fit LINE a VALUE, or NULL, in a COLUMN, as one CHANGE.",
+        () -> {
+          Tablehouse h = column(5, 6, 7, -1);
+          int[][] due = {{5, 0}, {6, 99}, {7, 99}, {-1, -1}};
+          type(h, "A=5").alter(1, 1, 0);
+          type(h, "A>5").alter(1, 1, 99);
+          for (int row = 0; row < 4; row++) {
+            same(due[row][0], h.get(1, row, 0));
+            same(due[row][1], h.get(1, row, 1));
+            same(-1, h.get(1, row, 2));
+          }
+          type(h, "-A!").alter(1, 0, -1);
+          is(set(0, 1, 2, 3), () -> fitting(h, 1, "A!"));
+          is(set(1, 2), () -> fitting(h, 1, "B=99"));
+        });
     sentence("Promise 16", "Returns SIZE, or a FAULT.", () -> {
       Tablehouse h = column(5, 6, 7, -1);
       type(h, "A>5|A!");
@@ -793,6 +809,15 @@ public final class PromiseEdges extends Edge {
   // ---- promises 21 to 23
 
   private static void line() {
+    sentence("Promise 21", "Types SIGNS, one after the other.", () -> {
+      Tablehouse h = new Tablehouse();
+      h.say(-1, 10, -1, 16, 1, -1);
+      h.say(-1, -1, -1, -1, -1, -1);
+      h.say(2, -1, -1, -1, -1, 21);
+      is("A=12&", h::line);
+      h.say(0, 26, 25, -1, 24, 23);
+      is(")(-", h::line);
+    });
     sentence("Promise 21", "Returns the length of LINE then.", () -> {
       Tablehouse h = new Tablehouse();
       is(0, () -> h.say(-1, -1, -1, -1, -1, -1));
@@ -1086,6 +1111,10 @@ public final class PromiseEdges extends Edge {
           h.drop(1, 1);
           tells(h, -9, () -> h.edge(1, 0, false));
         });
+    sentence("Promise 31", A_COLUMN, () -> ofEachColumn(1, (h, table, column) -> {
+      same(10 + column, h.edge(table, column, false));
+      same(20 + column, h.edge(table, column, true));
+    }));
     sentence("Promise 31", NO_COLUMN, () -> {
       Tablehouse h = indexed(1);
       needsColumn(h, (table, column) -> h.edge(table, column, false));
@@ -1124,6 +1153,12 @@ public final class PromiseEdges extends Edge {
       looks(h, -1, () -> h.near(1, 0, 99, 0), () -> h.near(1, 0, 99, 1), () -> h.near(1, 0, 0, 2),
           () -> h.near(1, 0, 0, 3));
     });
+    sentence("Promise 32", A_COLUMN, () -> ofEachColumn(1, (h, table, column) -> {
+      int[] due = {20 + column, 10 + column, 20 + column, -1};
+      for (int way = 0; way <= 3; way++) {
+        same(due[way], h.near(table, column, 20 + column, way));
+      }
+    }));
     sentence("Promise 32", NO_COLUMN, () -> {
       Tablehouse h = indexed(1);
       needsColumn(h, (table, column) -> h.near(table, column, 5, 0));
@@ -1151,6 +1186,11 @@ public final class PromiseEdges extends Edge {
       h.drop(1, 2);
       looks(h, set(1), () -> h.under(1, 0, 99));
     });
+    sentence("Promise 33", A_COLUMN, () -> ofEachColumn(1, (h, table, column) -> {
+      same(1, h.under(table, column, 10 + column));
+      same(2, h.under(table, column, 20 + column));
+      same(0, h.under(table, column, 9 + column));
+    }));
     sentence("Promise 33", NO_COLUMN, () -> {
       Tablehouse h = indexed(1);
       needsColumn(h, (table, column) -> h.under(table, column, 5));
@@ -1163,6 +1203,28 @@ public final class PromiseEdges extends Edge {
       needsKind(1, h -> h.under(1, 0, 5));
       needsKind(1, h -> h.under(1, 0, -1));
     });
+  }
+
+  /** Each column by itself: in row 0 there are 10, 11, 12 and so on, in row 1 20, 21, 22. */
+  private static void ofEachColumn(int kind, AtColumn call) {
+    for (int table = 0; table <= 2; table++) {
+      Tablehouse h = new Tablehouse();
+      row(h, table, 10, 11, 12, 13, 14, 15);
+      row(h, table, 20, 21, 22, 23, 24, 25);
+      for (int column = 0; column < WIDTH[table]; column++) {
+        int other = (column + 1) % WIDTH[table];
+        h.index(table, column, kind);
+        call.look(h, table, column);
+        // What another column has does not matter.
+        h.put(table, 0, other, 99);
+        call.look(h, table, column);
+        h.put(table, 0, other, 10 + other);
+      }
+    }
+  }
+
+  private interface AtColumn {
+    void look(Tablehouse h, int table, int column);
   }
 
   // ---- promises 34 to 36
@@ -1180,6 +1242,11 @@ public final class PromiseEdges extends Edge {
       looks(h, 2, () -> h.whose(1, 0, 99));
       is(0, () -> h.house(7));
     });
+    sentence("Promise 34", A_COLUMN, () -> ofEachColumn(0, (h, table, column) -> {
+      same(0, h.whose(table, column, 10 + column));
+      same(1, h.whose(table, column, 20 + column));
+      same(-1, h.whose(table, column, 11 + column));
+    }));
     sentence("Promise 34", NO_COLUMN, () -> {
       Tablehouse h = indexed(0);
       needsColumn(h, (table, column) -> h.whose(table, column, 5));
@@ -1205,6 +1272,11 @@ public final class PromiseEdges extends Edge {
           looks(h, set(0, 1, 2), () -> h.spelled(1, 0, 0, 0));
           looks(h, 0, () -> h.spelled(1, 0, 8, 8), () -> h.spelled(1, 0, 7, 4));
         });
+    sentence("Promise 35", A_COLUMN, () -> ofEachColumn(2, (h, table, column) -> {
+      same(true, (h.spelled(table, column, 1, column) & 1) == 1);
+      same(true, (h.spelled(table, column, 2, column) & 2) == 2);
+      same(0, h.spelled(table, column, 9, 9));
+    }));
     sentence("Promise 35", NO_COLUMN, () -> {
       Tablehouse h = indexed(2);
       needsColumn(h, (table, column) -> h.spelled(table, column, 0, 0));
@@ -1245,6 +1317,13 @@ public final class PromiseEdges extends Edge {
             same(more[k], h.ending(1, 0, k));
           }
         });
+    sentence("Promise 36", A_COLUMN, () -> ofEachColumn(2, (h, table, column) -> {
+      // WORDS "ba" and "aba", "bb" and "abb", "bab" and "abab", and so on: the last of all texts.
+      String[] last = {"ba", "bb", "bab", "bba", "baa", "bbb"};
+      int many = h.ofColumn(table, column, 8);
+      same(last[column], h.ending(table, column, many - 1));
+      same("", h.ending(table, column, many));
+    }));
     sentence("Promise 36", NO_COLUMN, () -> {
       Tablehouse h = indexed(2);
       needsColumn(h, (table, column) -> h.ending(table, column, 0));
@@ -1462,12 +1541,38 @@ public final class PromiseEdges extends Edge {
           is(767 - 8, () -> h.pair(0, 0, 0, 0, 575));
           is(-1, () -> h.pair(0, 0, 0, 0, 576));
         });
+    sentence("Promise 43", "- `toColumn`: that COLUMN", PromiseEdges::pairsOfEachColumn);
     sentence("Promise 43", NO_COLUMN, () -> {
       Tablehouse h = new Tablehouse();
       needsColumn(h, (table, column) -> h.pair(table, column, 0, 0, 0));
       Tablehouse g = new Tablehouse();
       needsColumn(g, (table, column) -> g.pair(0, 0, table, column, 0));
     });
+  }
+
+  private static void pairsOfEachColumn() {
+    int[][] values = {{1, 2, 3, 4, 5, 6}, {3, 1, 2, 6, 4, 5}};
+    Tablehouse h = new Tablehouse();
+    for (int table = 0; table <= 2; table++) {
+      row(h, table, values[0]);
+      row(h, table, values[1]);
+    }
+    for (int column = 0; column < 6; column++) {
+      for (int table = 1; table <= 2; table++) {
+        for (int toColumn = 0; toColumn < WIDTH[table]; toColumn++) {
+          int first = -1;
+          int many = 0;
+          for (int pair = 3; pair >= 0; pair--) {
+            if (values[pair / 2][column] == values[pair % 2][toColumn]) {
+              first = 32 * (pair / 2) + pair % 2;
+              many++;
+            }
+          }
+          same(first, h.pair(0, column, table, toColumn, 0));
+          same(many, h.join(0, column, table, toColumn, (column + toColumn) % 3));
+        }
+      }
+    }
   }
 
   // ---- promises 44 to 47
@@ -1507,6 +1612,10 @@ public final class PromiseEdges extends Edge {
               same(due[k][what], h.group(1, 0, 1, k, what));
             }
           }
+          h.put(1, 0, 1, 1);
+          is(1, () -> h.group(1, 0, 1, 1, 4));
+          h.put(1, 0, 1, 9);
+          is(9, () -> h.group(1, 0, 1, 1, 5));
           // Of the COLUMN of the GROUPS itself.
           int[][] own = {{0, 0, 0}, {297, 99, 99}, {0, -1, -1}};
           for (int k = 0; k < 3; k++) {
@@ -1515,6 +1624,22 @@ public final class PromiseEdges extends Edge {
             }
           }
         });
+    sentence("Promise 45", "- `by`: the COLUMN of the GROUPS - `of`: the COLUMN that is asked about", () -> {
+      for (int table = 0; table <= 2; table++) {
+        Tablehouse h = new Tablehouse();
+        row(h, table, 1, 2, 3, 4, 5, 6);
+        row(h, table, 20, 20, 20, 20, 20, 20);
+        row(h, table, 1, 2, 3, 4, 5, 6);
+        for (int by = 0; by < WIDTH[table]; by++) {
+          for (int of = 0; of < WIDTH[table]; of++) {
+            int[] due = {1 + by, set(0, 2), 2, 2 + 2 * of, 1 + of, 1 + of};
+            for (int what = 0; what <= 5; what++) {
+              same(due[what], h.group(table, by, of, 0, what));
+            }
+          }
+        }
+      }
+    });
     sentence("Promise 45", "if there is no such TABLE, COLUMN (the one or the other), or GROUP", () -> {
       Tablehouse h = new Tablehouse();
       for (int table = 0; table <= 2; table++) {
@@ -1548,6 +1673,10 @@ public final class PromiseEdges extends Edge {
           for (int what = 0; what <= 4; what++) {
             same(none[what], h.total(0, 0, what));
           }
+          Tablehouse g = column(4, 50, 5);
+          is(4, () -> g.total(1, 0, 2));
+          g.put(1, 0, 0, 60);
+          is(60, () -> g.total(1, 0, 3));
           h.sow(2, 12, 99, 0);
           h.sow(2, 12, 99, 0);
           is(2376, () -> h.total(2, 0, 0));
@@ -1935,6 +2064,7 @@ public final class PromiseEdges extends Edge {
           g.index(1, 0, 1);
           g.index(1, 0, 2);
           g.lens(1, 0, 0, 50);
+          g.cube(1, 0, 1, 2);
           type(g, "A=5").ask(1);
           is(digestOf(g).longValue(), g::digest);
         });
