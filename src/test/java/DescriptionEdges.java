@@ -201,17 +201,18 @@ public final class DescriptionEdges extends Edge {
       int t = table;
       h.sow(t, 6, 10, 1);
       h.drop(t, 0);
+      h.drop(t, 4);
       h.drop(t, 2);
-      h.drop(t, 5);
       is(0, () -> h.ofTable(t, 2));
       is(0, () -> row(h, t, 77));
       is(2, () -> h.ofTable(t, 2));
-      // Into the gap 2 first, then behind all others.
+      // Into the gaps 2 and 4 first, then behind all others.
       is(3, () -> h.sow(t, 3, 50, 1));
       is(50, () -> h.get(t, 2, 0));
-      is(51, () -> h.get(t, 5, 0));
+      is(51, () -> h.get(t, 4, 0));
       is(52, () -> h.get(t, 6, 0));
       is(13, () -> h.get(t, 3, 0));
+      is(15, () -> h.get(t, 5, 0));
       h.drop(t, 3);
       h.begin();
       is(3, () -> row(h, t, 1));
@@ -1896,21 +1897,22 @@ public final class DescriptionEdges extends Edge {
     h.begin();
     h.begin();
     refuses(h, OUT, () -> h.index(3, 0, 3), () -> h.unindex(0, 6, 3), () -> h.need(2, 3, true),
-        () -> h.check(1, 4, 9, 8), () -> h.link(0, 0, 1, 4, 3), () -> h.unlink(2, 3),
-        () -> h.cube(2, 3, 2, 1), () -> h.sow(3, 13, 0, 0), () -> h.put(1, 24, 0, 100),
-        () -> h.alter(1, 4, 100), () -> h.shift(1, 4, 100), () -> h.cut(3), () -> h.ask(3),
-        () -> h.road(3, 4), () -> h.plan(3, 0), () -> h.cost(3), () -> h.kept(0, 4),
-        () -> h.edge(1, 4, true), () -> h.near(1, 4, 100, 4), () -> h.under(1, 4, 100),
-        () -> h.whose(1, 4, 100), () -> h.spelled(1, 4, 10, 10), () -> h.ending(1, 4, 0),
-        () -> h.lens(1, 4, 5, 5), () -> h.narrow(0, 5, 5), () -> h.ofLens(0, 6),
-        () -> h.join(1, 0, 2, 3, 3), () -> h.group(1, 0, 0, 24, 6), () -> h.total(1, 4, 5),
-        () -> h.ofTable(3, 4), () -> h.ofColumn(1, 4, 9));
+        () -> h.check(1, 4, 9, 8), () -> h.check(1, 4, -1, 99), () -> h.link(0, 0, 1, 4, 3),
+        () -> h.unlink(2, 3), () -> h.cube(2, 3, 2, 1), () -> h.sow(3, 13, 0, 0),
+        () -> h.put(1, 24, 0, 100), () -> h.put(1, 0, 4, 100), () -> h.alter(1, 4, 100),
+        () -> h.shift(1, 4, 100), () -> h.cut(3), () -> h.ask(3), () -> h.road(3, 4),
+        () -> h.plan(3, 0), () -> h.cost(3), () -> h.kept(0, 4), () -> h.edge(1, 4, true),
+        () -> h.near(1, 4, 100, 4), () -> h.under(1, 4, 100), () -> h.whose(1, 4, 100),
+        () -> h.spelled(1, 4, 10, 10), () -> h.ending(1, 4, 0), () -> h.lens(1, 4, 5, 5),
+        () -> h.narrow(0, 5, 5), () -> h.ofLens(0, 6), () -> h.join(1, 0, 2, 3, 3),
+        () -> h.group(1, 0, 0, 24, 6), () -> h.total(1, 4, 5), () -> h.ofTable(3, 4),
+        () -> h.ofColumn(1, 4, 9));
     refuses(h, BAD, () -> h.index(1, 0, 3), () -> h.unindex(1, 0, 3), () -> h.check(1, 0, 9, 8),
         () -> h.link(0, 0, 1, 0, 3), () -> h.cube(1, 2, 1, 0), () -> h.addFour(1, 1, 1, 100),
         () -> h.sow(1, 13, 0, 0), () -> h.alter(1, 0, 100), () -> h.shift(1, 0, 100),
         () -> h.road(1, 4), () -> h.near(1, 0, 100, 0), () -> h.under(1, 0, 100),
-        () -> h.whose(1, 0, 100), () -> h.spelled(1, 0, 10, 0), () -> h.lens(1, 0, 5, 5),
-        () -> h.say(1, 1, 1, 1, 1, 27));
+        () -> h.whose(1, 0, 100), () -> h.spelled(1, 0, 10, 0), () -> h.spelled(1, 0, 0, 10),
+        () -> h.lens(1, 0, 5, 5), () -> h.say(1, 1, 1, 1, 1, 27));
     Tablehouse g = new Tablehouse();
     for (int signs = 0; signs < 36; signs += 6) {
       g.say(1, 1, 1, 1, 1, 1);

@@ -114,8 +114,16 @@ public final class SoundnessTests extends Edge {
       ((int[]) fieldOf(Tablehouse.Cube.class, counts, "sizes"))[place]++;
       look(false, house);
     }
+    // Cells of no row, be it that they count one or none; then a row without any.
     Tablehouse house = new Tablehouse();
-    ((Tablehouse.Cube) part(house, "counts")).countIn(rowsOf(house), 0);
+    Tablehouse.Cube counts = (Tablehouse.Cube) part(house, "counts");
+    counts.countIn(rowsOf(house), 0);
+    look(false, house);
+    java.util.Arrays.fill((int[]) fieldOf(Tablehouse.Cube.class, counts, "sizes"), 0);
+    look(false, house);
+    house = new Tablehouse();
+    house.addSix(1, 2, 3, 4, 5, 6);
+    ((Tablehouse.Cube) part(house, "counts")).countOut(rowsOf(house), 0);
     look(false, house);
   }
 
@@ -162,6 +170,15 @@ public final class SoundnessTests extends Edge {
   private static void spoilsRoads() {
     Tablehouse house = type(furnished(), "A=47");
     same(true, agree(house));
+    indexed(house).rowsOf[47] = 0;
+    same(false, agree(house));
+    // One row too many stands under 47: only by the indexes it fits.
+    house = type(furnished(), "A=47");
+    indexed(house).rowsOf[47] |= 1;
+    same(false, agree(house));
+    // A row under another VALUE than its own: only by what is CHOSEN it fits no more.
+    house = type(furnished(), "A=47|A=46");
+    indexed(house).rowsOf[46] = indexed(house).rowsOf[47];
     indexed(house).rowsOf[47] = 0;
     same(false, agree(house));
     // What no index of a table can answer is not touched; a line that is not right is not asked.
