@@ -252,6 +252,15 @@ abstract class Edge {
         : table == 1 ? h.addFour(v[0], v[1], v[2], v[3]) : h.addThree(v[0], v[1], v[2]);
   }
 
+  /** Rows 0, 1, 2 and so on of table 1 with these values in their first column. */
+  static Tablehouse column(int... values) {
+    Tablehouse h = new Tablehouse();
+    for (int value : values) {
+      row(h, 1, value);
+    }
+    return h;
+  }
+
   static int set(int... members) {
     int set = 0;
     for (int member : members) {

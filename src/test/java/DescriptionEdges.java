@@ -32,15 +32,6 @@ public final class DescriptionEdges extends Edge {
     return s;
   }
 
-  /** Rows 0, 1, 2 and so on of table 1 with these values in their first column. */
-  private static Tablehouse column(int... values) {
-    Tablehouse h = new Tablehouse();
-    for (int value : values) {
-      row(h, 1, value);
-    }
-    return h;
-  }
-
   private static int asked(Tablehouse h, int table, String text) {
     return type(h, text).ask(table);
   }

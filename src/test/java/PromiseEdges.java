@@ -28,15 +28,6 @@ public final class PromiseEdges extends Edge {
     end(args);
   }
 
-  /** Rows 0, 1, 2 and so on of table 1 with these values in their first column. */
-  private static Tablehouse column(int... values) {
-    Tablehouse h = new Tablehouse();
-    for (int value : values) {
-      row(h, 1, value);
-    }
-    return h;
-  }
-
   /** A house whose columns all have an index of a kind. */
   private static Tablehouse indexed(int kind) {
     Tablehouse h = new Tablehouse();
@@ -1882,7 +1873,7 @@ public final class PromiseEdges extends Edge {
     });
   }
 
-  private static void column(Tablehouse h, int table, int column, int... due) {
+  private static void has(Tablehouse h, int table, int column, int... due) {
     for (int what = 0; what <= 8; what++) {
       same(due[what], h.ofColumn(table, column, what));
     }
@@ -1890,26 +1881,26 @@ public final class PromiseEdges extends Edge {
 
   private static void whatAColumnIs() {
     Tablehouse h = column(47, 0, -1);
-    column(h, 1, 0, 0, 0, 0, 99, -1, -1, 0, 0, 0);
+    has(h, 1, 0, 0, 0, 0, 99, -1, -1, 0, 0, 0);
     h.index(1, 0, 0);
-    column(h, 1, 0, 1, 0, 0, 99, -1, -1, 2, 0, 0);
+    has(h, 1, 0, 1, 0, 0, 99, -1, -1, 2, 0, 0);
     h.index(1, 0, 1);
-    column(h, 1, 0, 3, 0, 0, 99, -1, -1, 2, 2, 0);
+    has(h, 1, 0, 3, 0, 0, 99, -1, -1, 2, 2, 0);
     h.index(1, 0, 2);
-    column(h, 1, 0, 7, 0, 0, 99, -1, -1, 2, 2, 7);
+    has(h, 1, 0, 7, 0, 0, 99, -1, -1, 2, 2, 7);
     h.drop(1, 2);
     h.need(1, 0, true);
     h.check(1, 0, 0, 47);
     h.link(1, 0, 1, 0, 2);
-    column(h, 1, 0, 7, 1, 0, 47, 2, 10, 2, 2, 7);
+    has(h, 1, 0, 7, 1, 0, 47, 2, 10, 2, 2, 7);
     h.link(0, 5, 1, 0, 0);
-    column(h, 0, 5, 0, 0, 0, 99, 0, 10, 0, 0, 0);
+    has(h, 0, 5, 0, 0, 0, 99, 0, 10, 0, 0, 0);
     h.index(0, 0, 0);
     h.link(2, 2, 0, 0, 1);
-    column(h, 2, 2, 0, 0, 0, 99, 1, 0, 0, 0, 0);
+    has(h, 2, 2, 0, 0, 0, 99, 1, 0, 0, 0, 0);
     h.index(2, 2, 0);
     h.link(1, 3, 2, 2, 1);
-    column(h, 1, 3, 0, 0, 0, 99, 1, 22, 0, 0, 0);
+    has(h, 1, 3, 0, 0, 0, 99, 1, 22, 0, 0, 0);
     h.unlink(1, 0);
     h.unlink(0, 5);
     h.need(1, 0, false);
@@ -1917,13 +1908,13 @@ public final class PromiseEdges extends Edge {
     for (int kind = 0; kind <= 2; kind++) {
       h.unindex(1, 0, kind);
     }
-    column(h, 1, 0, 0, 0, 0, 99, -1, -1, 0, 0, 0);
-    column(h, 0, 5, 0, 0, 0, 99, -1, -1, 0, 0, 0);
+    has(h, 1, 0, 0, 0, 0, 99, -1, -1, 0, 0, 0);
+    has(h, 0, 5, 0, 0, 0, 99, -1, -1, 0, 0, 0);
     // Two ROWS under one VALUE are one VALUE, of which the texts are there once.
     h.put(1, 1, 0, 47);
     h.index(1, 0, 1);
     h.index(1, 0, 2);
-    column(h, 1, 0, 6, 0, 0, 99, -1, -1, 0, 1, 5);
+    has(h, 1, 0, 6, 0, 0, 99, -1, -1, 0, 1, 5);
   }
 
   private static void whatAHouseTells() {

@@ -15,13 +15,6 @@ public final class PromiseTests extends Edge {
     return type(h, text).road(table, 0);
   }
 
-  /** A row into table 1, with NULL behind what is given. */
-  private static int four(Tablehouse h, int... values) {
-    int[] all = {-1, -1, -1, -1};
-    System.arraycopy(values, 0, all, 0, values.length);
-    return h.addFour(all[0], all[1], all[2], all[3]);
-  }
-
   // ---- a new house, rules, indexes and the cube
 
   private static void rules() {
@@ -62,8 +55,8 @@ public final class PromiseTests extends Edge {
 
   private static void promise2Index() {
     Tablehouse h = new Tablehouse();
-    four(h, 3, 5);
-    four(h, 14, 5);
+    row(h, 1, 3, 5);
+    row(h, 1, 14, 5);
     is(1, () -> h.index(1, 0, 0));
     looks(h, 0, () -> h.index(1, 0, 0));
     tells(h, -4, () -> h.index(1, 1, 0));
@@ -113,10 +106,10 @@ public final class PromiseTests extends Edge {
     is(1, () -> h.index(1, 0, 0));
     is(1, () -> h.index(1, 0, 1));
     is(7, () -> h.ofColumn(1, 0, 0));
-    four(h, 0);
-    four(h);
-    four(h, 47);
-    four(h);
+    row(h, 1, 0);
+    row(h, 1);
+    row(h, 1, 47);
+    row(h, 1);
     type(h, "A!");
     for (int road = 0; road <= 3; road++) {
       same(set(1, 3), h.road(1, road));
@@ -204,8 +197,8 @@ public final class PromiseTests extends Edge {
 
   private static void promise5Check() {
     Tablehouse h = new Tablehouse();
-    four(h, 20, 20);
-    four(h, 30);
+    row(h, 1, 20, 20);
+    row(h, 1, 30);
     is(1, () -> h.check(1, 0, 20, 30));
     is(20, () -> h.ofColumn(1, 0, 2));
     is(30, () -> h.ofColumn(1, 0, 3));
@@ -293,11 +286,11 @@ public final class PromiseTests extends Edge {
     h.index(2, 0, 0);
     is(false, () -> h.unlink(1, 1));
     h.link(1, 1, 2, 0, 2);
-    tells(h, -5, () -> four(h, 1, 2));
+    tells(h, -5, () -> row(h, 1, 1, 2));
     is(true, () -> h.unlink(1, 1));
     is(-1, () -> h.ofColumn(1, 1, 4));
     is(-1, () -> h.ofColumn(1, 1, 5));
-    is(0, () -> four(h, 1, 2));
+    is(0, () -> row(h, 1, 1, 2));
     is(false, () -> h.unlink(1, 1));
     tells(h, -5, () -> h.link(1, 1, 2, 0, 2));
     h.addThree(2, 2, 2);
@@ -314,8 +307,8 @@ public final class PromiseTests extends Edge {
   private static void promise8Cube() {
     Tablehouse h = new Tablehouse();
     is(0, () -> h.cube(1, 0, 1, 2));
-    four(h, 1, 2, 3);
-    four(h, 1, 2, 4);
+    row(h, 1, 1, 2, 3);
+    row(h, 1, 1, 2, 4);
     // Apart only in the third: ANY there 4 cells, something there 4 twice.
     is(12, () -> h.house(9));
     is(8, () -> h.cube(1, 0, 1, 3));
@@ -540,7 +533,7 @@ public final class PromiseTests extends Edge {
     is(1, () -> h.sow(2, 1, 8, 0));
     // Each row finds its value in the row behind it, the last in one that was there.
     Tablehouse g = new Tablehouse();
-    four(g, 40);
+    row(g, 1, 40);
     g.index(1, 0, 0);
     g.link(1, 1, 1, 0, 0);
     tells(g, -5, () -> g.sow(1, 3, 20, 7));
@@ -648,8 +641,8 @@ public final class PromiseTests extends Edge {
     h.link(2, 0, 0, 0, 1);
     h.link(2, 1, 0, 5, 2);
     h.link(1, 1, 0, 0, 2);
-    four(h, 50, -1, 50);
-    four(h, 60, -1, 50);
+    row(h, 1, 50, -1, 50);
+    row(h, 1, 60, -1, 50);
     h.addSix(10, 50, 50, 50, 50, 11);
     h.addSix(11, 60, 50, 50, 50, 10);
     h.addSix(12, 50, 60, 60, 60, 60);
@@ -708,7 +701,7 @@ public final class PromiseTests extends Edge {
     for (int k = 0; k < 24; k++) {
       h.addSix(k, k - 1, 0, 0, 0, 0);
       h.addThree(k, k, 0);
-      four(h, k, k, 0, 0);
+      row(h, 1, k, k, 0, 0);
     }
     h.begin();
     is(3, () -> h.drop(0, 23));
@@ -729,9 +722,9 @@ public final class PromiseTests extends Edge {
   private static void promise14DropFaults() {
     Tablehouse h = new Tablehouse();
     h.index(1, 0, 0);
-    four(h, 1);
-    four(h, 2);
-    four(h, 3);
+    row(h, 1, 1);
+    row(h, 1, 2);
+    row(h, 1, 3);
     h.link(2, 0, 1, 0, 0);
     h.link(2, 1, 1, 0, 2);
     h.link(0, 0, 1, 0, 1);
@@ -753,7 +746,7 @@ public final class PromiseTests extends Edge {
     // -2 goes ahead of -5.
     Tablehouse g = new Tablehouse();
     g.index(1, 0, 0);
-    four(g, 1);
+    row(g, 1, 1);
     g.link(2, 0, 1, 0, 0);
     g.link(2, 1, 1, 0, 2);
     g.addThree(1, 1, 1);
@@ -1347,8 +1340,8 @@ public final class PromiseTests extends Edge {
   private static void promise24AskWhatIsLetGoTakesOut() {
     Tablehouse h = new Tablehouse();
     h.index(1, 0, 0);
-    four(h, 5);
-    four(h, 6);
+    row(h, 1, 5);
+    row(h, 1, 6);
     h.link(2, 0, 1, 0, 2);
     h.link(2, 1, 1, 0, 2);
     h.link(0, 1, 1, 0, 2);
@@ -1899,7 +1892,7 @@ public final class PromiseTests extends Edge {
     Tablehouse h = new Tablehouse();
     h.index(1, 0, 2);
     is("", () -> h.ending(1, 0, 0));
-    four(h, 47);
+    row(h, 1, 47);
     String[] due = {"aabab", "ab", "abab", "b", "bab"};
     for (int k = 0; k < 5; k++) {
       same(due[k], h.ending(1, 0, k));
@@ -1908,8 +1901,8 @@ public final class PromiseTests extends Edge {
     is("", () -> h.ending(1, 0, -1));
     is("", () -> h.ending(1, 0, Integer.MAX_VALUE));
     is("", () -> h.ending(1, 0, Integer.MIN_VALUE));
-    four(h);
-    four(h, 99);
+    row(h, 1);
+    row(h, 1, 99);
     String[] more =
         {"a", "aa", "aabaa", "aabab", "ab", "abaa", "abab", "b", "baa", "baabaa", "bab"};
     for (int k = 0; k < 11; k++) {
@@ -2001,7 +1994,7 @@ public final class PromiseTests extends Edge {
       same(none[what], h.ofLens(0, what));
     }
     for (int value : new int[] {9, 10, 29, 30, -1, 10, 20}) {
-      four(h, value);
+      row(h, 1, value);
     }
     int[] due = {10, 30, 3, set(1, 2, 5, 6), 10, 29};
     for (int what = 0; what <= 5; what++) {
@@ -2088,7 +2081,7 @@ public final class PromiseTests extends Edge {
   private static Tablehouse joined() {
     Tablehouse h = new Tablehouse();
     for (int value : new int[] {5, -1, 7, 5}) {
-      four(h, value);
+      row(h, 1, value);
     }
     for (int value : new int[] {7, 5, -1, 5, 6}) {
       h.addThree(0, -1, value);
@@ -2210,7 +2203,7 @@ public final class PromiseTests extends Edge {
       same(none[what], h.total(1, 0, what));
     }
     for (int value : new int[] {4, -1, 90, 4, 0, -1}) {
-      four(h, value);
+      row(h, 1, value);
     }
     int[] due = {98, 3, 0, 90, 2};
     for (int what = 0; what <= 4; what++) {
@@ -2241,7 +2234,7 @@ public final class PromiseTests extends Edge {
     Tablehouse h = new Tablehouse();
     is(-1, () -> h.ranked(1, 0, false, 0));
     for (int value : new int[] {50, -1, 20, 50, 99, -1, 0, 20}) {
-      four(h, value);
+      row(h, 1, value);
     }
     int[] rising = {6, 2, 7, 0, 3, 4, 1, 5, -1};
     int[] falling = {4, 0, 3, 2, 7, 6, 1, 5, -1};
