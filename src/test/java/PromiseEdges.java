@@ -2068,6 +2068,55 @@ public final class PromiseEdges extends Edge {
             is(digestOf(h).longValue(), h::digest);
           }
         });
+    sentence("Promise 58", "stamp(); house() of 0 to 9;", () -> {
+      Tablehouse h = column(5, 6);
+      h.index(1, 0, 0);
+      h.index(1, 0, 1);
+      h.put(1, 0, 0, 6);
+      h.lens(1, 0, 5, 4);
+      for (int number = 0; number <= 6; number++) {
+        type(h, "A=" + number).ask(1);
+      }
+      h.ask(1);
+      h.lens(1, 0, 0, 9);
+      h.begin();
+      h.begin();
+      h.sow(1, 3, 50, 1);
+      type(h, "A!").ask(1);
+      is(digestOf(h).longValue(), h::digest);
+    });
+    sentence("Promise 58", "then COLUMN by COLUMN ofColumn() of 0 to 8, groups() and total() of 0 to 4",
+        () -> {
+          for (int table = 0; table <= 2; table++) {
+            Tablehouse h = new Tablehouse();
+            h.sow(table, 5, 20, 7);
+            h.put(table, 0, 0, 27);
+            h.put(table, 4, 0, -1);
+            for (int column = WIDTH[table] - 1; column >= 0; column--) {
+              h.need(table, column, column > 0);
+              h.check(table, column, column, 99 - column);
+              h.index(table, column, column == 0 ? 1 : 0);
+              h.index(table, column, column == 2 ? 1 : 2);
+              h.link(table, column, table, column == 0 ? 1 : column, column % 3);
+            }
+            is(0, () -> h.house(7));
+            is(digestOf(h).longValue(), h::digest);
+          }
+        });
+    sentence("Promise 58", "LENS by LENS ofLens() of 0 to 5; cellsBy() of 0 to 7; the length of LINE",
+        () -> {
+          for (int lenses = 0; lenses <= 4; lenses++) {
+            Tablehouse h = column(5, 6, 5, -1);
+            row(h, 1, 30, 2, 7);
+            h.cube(1, 0, 1, 2);
+            h.index(1, 0, 1);
+            for (int lens = 0; lens < lenses; lens++) {
+              h.lens(1, 0, 5 + lens % 3, 30 + 21 * lens);
+            }
+            type(h, "((((((((((((((((((((((((((((((((((((((((".substring(10 * lenses));
+            is(digestOf(h).longValue(), h::digest);
+          }
+        });
   }
 
   private static void stampsOfIndexes() {

@@ -121,9 +121,11 @@ public final class RandomRuns {
   /** Chooses calls so that most of them find something, and some nothing. */
   private static final class Caller {
     private static final String SIGNS = "0123456789ABCDEF=<>~!&|-()";
+    private static final int LINKS = 21;
     private final Random random;
     private final Model model;
     private final int span;
+    private final boolean isLinked;
     private int made;
     private final ArrayDeque<Integer> typing = new ArrayDeque<>();
     private final List<String> texts = new ArrayList<>();
@@ -132,6 +134,7 @@ public final class RandomRuns {
       this.random = random;
       this.model = model;
       this.span = new int[] {6, 15, 40, 100}[run % 4];
+      this.isLinked = run % 3 == 0;
     }
 
     Object[] next(List<Method> methods) {
@@ -144,6 +147,9 @@ public final class RandomRuns {
       }
       int kind = random.nextInt(100);
       made++;
+      if (isLinked && (made <= LINKS || kind % 2 == 0)) {
+        return nextAmongLinks(methods);
+      }
       if (kind < 12) {
         typing.add(26);
         for (char sign : text().toCharArray()) {
@@ -164,6 +170,52 @@ public final class RandomRuns {
         method = named(methods, new String[] {"addSix", "addFour", "addThree"}[random.nextInt(3)]);
       }
       return new Object[] {method, arguments(method)};
+    }
+
+    /**
+     * First many links are made, most to columns that have links, too; then rows go in that find what
+     * their links ask for, and out again, so that others fall with them or let go.
+     */
+    private Object[] nextAmongLinks(List<Method> methods) {
+      if (made <= LINKS / 3) {
+        return new Object[] {named(methods, "index"), new Object[] {made % 3, made / 3 % 3, 0}};
+      }
+      int table = random.nextInt(3);
+      int width = Model.WIDTH[table];
+      if (made <= LINKS) {
+        int kind = new int[] {0, 1, 1, 1, 2, 2, 2}[random.nextInt(7)];
+        return new Object[] {named(methods, "link"), new Object[] {table, 1 + random.nextInt(width - 1),
+            random.nextInt(3), random.nextInt(2), kind}};
+      }
+      if (random.nextInt(9) < 6 || model.rows.get(table).isEmpty()) {
+        Object[] values = new Object[width];
+        for (int column = 0; column < width; column++) {
+          values[column] = fitting(table, column);
+        }
+        return new Object[] {named(methods, new String[] {"addSix", "addFour", "addThree"}[table]), values};
+      }
+      String[] often = {"drop", "drop", "drop", "put", "ask", "sweep", "begin", "back", "back", "commit"};
+      Method method = named(methods, often[random.nextInt(often.length)]);
+      Object[] all = arguments(method);
+      if (method.getName().equals("put")) {
+        all[3] = in(all[0], 0, 2) && in(all[2], 0, Model.WIDTH[(int) all[0]] - 1)
+            ? fitting((int) all[0], (int) all[2]) : 1;
+      }
+      return new Object[] {method, all};
+    }
+
+    private static boolean in(Object number, int low, int high) {
+      return Model.in((int) number, low, high);
+    }
+
+    /** What a link of the column would find; any value, if there is no link. */
+    private int fitting(int table, int column) {
+      Model.Link link = model.links[table][column];
+      if (link == null || random.nextInt(40) == 0) {
+        return random.nextInt(6) == 0 ? -1 : random.nextInt(100);
+      }
+      List<Integer> all = model.values(link.toTable, link.toColumn);
+      return all.isEmpty() || random.nextInt(4) == 0 ? -1 : all.get(random.nextInt(all.size()));
     }
 
     private static Method named(List<Method> methods, String name) {
